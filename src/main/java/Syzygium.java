@@ -67,6 +67,7 @@ public final class Syzygium {
         }
         int value = ring.mod(number);
         if (value > 0) {
+            engine.clean();
             engine.bucket.empty();
             engine.bucket.add(current, 0, 0, 1);
             engine.bucket.addWord(ring.word(x, y, z), value);
@@ -153,6 +154,7 @@ public final class Syzygium {
         if (isMissing(ideal)) {
             throw new IndexOutOfBoundsException();
         }
+        engine.clean();
         return engine.isIn(current, basis(ideal));
     }
 
@@ -160,6 +162,7 @@ public final class Syzygium {
         if (isMissing(ideal)) {
             throw new IndexOutOfBoundsException();
         }
+        engine.clean();
         engine.divide(current, basis(ideal));
         current.copy(engine.out, 0);
         return current.count;
@@ -169,6 +172,7 @@ public final class Syzygium {
         if (isMissing(ideal)) {
             throw new IndexOutOfBoundsException();
         }
+        engine.clean();
         if (engine.isIn(current, basis(ideal))) {
             return true;
         }
@@ -181,6 +185,7 @@ public final class Syzygium {
         if (isMissing(ideal) || isMissing(other)) {
             throw new IndexOutOfBoundsException();
         }
+        engine.clean();
         return engine.isInside(basis(ideal), basis(other)) && engine.isInside(basis(other), basis(ideal));
     }
 
@@ -188,6 +193,7 @@ public final class Syzygium {
         if (isMissing(ideal) || isMissing(other)) {
             throw new IndexOutOfBoundsException();
         }
+        engine.clean();
         return engine.isInside(basis(ideal), basis(other));
     }
 
@@ -534,6 +540,7 @@ public final class Syzygium {
     }
 
     public boolean isSound() {
+        engine.clean();
         for (int i = 0; i < count; i++) {
             Basis basis = basis(i);
             if (!engine.isClosed(basis)) {
@@ -758,7 +765,7 @@ public final class Syzygium {
             if (number <= terms.length) {
                 return true;
             }
-            int wish = number + number / 4 + 4;
+            int wish = number + number / 2 + 4;
             if (wish < 0 || wish > ring.room) {
                 ring.isFull = true;
                 return false;
@@ -904,7 +911,7 @@ public final class Syzygium {
         /** The place of a polynomial whose leading word divides this word, -1 if there is none. */
         int divisorOf(long word) {
             int number = Math.min(count, lead.length);
-            for (int i = 0; i < number; i++) {
+            for (int i = 0; i < number && i < off.length; i++) {
                 if (!off[i] && ring.divides(lead[i], word)) {
                     return i;
                 }
@@ -993,63 +1000,60 @@ public final class Syzygium {
 
         /** Adds a number times a word times what a polynomial has from a place on. */
         void add(Poly p, int start, long word, int number) {
-            int prime = ring.prime;
-            if (start < 0 || start >= p.count || number < 1 || prime < 2) {
+            if (start < 0 || start >= p.count || number < 1) {
                 return;
             }
-            Poly more = p;
-            int from = start;
-            long shift = word << 3;
-            int factor = number;
-            for (int k = levelOf(p.count - start); k < LEVELS; k++) {
-                Poly mine = part[k];
-                int i = first[k];
-                int n = Math.min(mine.count, mine.terms.length);
-                int j = from;
-                int m = Math.min(more.count, more.terms.length);
-                if (i < 0 || !spare.make(n - i + m - j)) {
-                    return;
-                }
-                long[] a = mine.terms;
-                long[] b = more.terms;
-                long[] c = spare.terms;
-                int to = 0;
-                while ((i < n || j < m) && to < c.length) {
-                    long left = i < n ? a[i] : -1;
-                    long right = j < m ? b[j] + shift : -1;
-                    if (left >> 3 > right >> 3) {
-                        c[to] = left;
-                        to++;
-                        i++;
-                    } else {
-                        int sum = factor * ((int) right & 7);
-                        if (left >> 3 == right >> 3) {
-                            sum += (int) left & 7;
-                            i++;
-                        }
-                        sum %= prime;
-                        if (sum != 0) {
-                            c[to] = right & ~7L | sum;
-                            to++;
-                        }
-                        j++;
-                    }
-                }
-                spare.count = to;
-                part[k] = spare;
+            int level = levelOf(p.count - start);
+            merge(level, p, start, word << 3, number);
+            for (int k = level; k + 1 < LEVELS && part[k].count - first[k] > 4 << 2 * k; k++) {
+                merge(k + 1, part[k], first[k], 0, 1);
+                part[k].count = 0;
                 first[k] = 0;
-                spare = mine;
-                if (more != p) {
-                    more.count = 0;
-                }
-                if (to <= 4 << 2 * k) {
-                    return;
-                }
-                more = part[k];
-                from = 0;
-                shift = 0;
-                factor = 1;
             }
+        }
+
+        private void merge(int level, Poly p, int start, long shift, int factor) {
+            int prime = ring.prime;
+            if (level < 0 || level >= LEVELS || start < 0 || prime < 2) {
+                return;
+            }
+            Poly mine = part[level];
+            int i = Math.max(0, first[level]);
+            int n = Math.min(mine.count, mine.terms.length);
+            int j = start;
+            int m = Math.min(p.count, p.terms.length);
+            if (!spare.make(n - i + m - j)) {
+                return;
+            }
+            long[] a = mine.terms;
+            long[] b = p.terms;
+            long[] c = spare.terms;
+            int to = 0;
+            while ((i < n || j < m) && to < c.length) {
+                long left = i < n ? a[i] : -1;
+                long right = j < m ? b[j] + shift : -1;
+                if (left >> 3 > right >> 3) {
+                    c[to] = left;
+                    to++;
+                    i++;
+                } else {
+                    int sum = factor * ((int) right & 7);
+                    if (left >> 3 == right >> 3) {
+                        sum += (int) left & 7;
+                        i++;
+                    }
+                    sum %= prime;
+                    if (sum != 0) {
+                        c[to] = right & ~7L | sum;
+                        to++;
+                    }
+                    j++;
+                }
+            }
+            spare.count = to;
+            part[level] = spare;
+            first[level] = 0;
+            spare = mine;
         }
 
         private static int levelOf(int number) {
@@ -1105,7 +1109,7 @@ public final class Syzygium {
         }
 
         boolean add(int first, int second, long word, int degree, boolean isIdle) {
-            if (count >= one.length && !grow() || count < 0) {
+            if (count < 0 || count >= one.length && !grow()) {
                 return false;
             }
             one[count] = first;
@@ -1174,7 +1178,7 @@ public final class Syzygium {
         void sift(int start) {
             for (int i = count - 1; i >= start && isPlace(i); i--) {
                 boolean isCovered = false;
-                for (int k = start; k < count && k >= 0 && !idle[i] && !isCovered; k++) {
+                for (int k = Math.max(start, 0); isPlace(k) && !idle[i] && !isCovered; k++) {
                     isCovered = k != i && ring.divides(common[k], common[i]);
                 }
                 if (isCovered) {
@@ -1474,6 +1478,7 @@ public final class Syzygium {
         final Basis by;
         final Basis found;
         final Basis rows;
+        final Basis none;
         final Poly one;
         final Poly made;
 
@@ -1485,6 +1490,7 @@ public final class Syzygium {
             by = new Basis(ring, 16);
             found = new Basis(ring, 32);
             rows = new Basis(ring, 32);
+            none = new Basis(ring, 1);
             one = new Poly(ring);
             one.append(1);
             made = new Poly(ring);
@@ -1536,10 +1542,19 @@ public final class Syzygium {
 
         boolean meet(Basis first, Basis second) {
             engine.clean();
-            engine.isStrict = first.isEven() && second.isEven();
+            if (first.count == 0 || second.count == 0) {
+                return true;
+            }
+            find(first, second, -1);
+            if (!isFoundSmall()) {
+                return false;
+            }
+            engine.clean();
             engine.know(first, TOP);
+            engine.know(found, 0);
             lineUp(first, second, one);
-            return engine.run() && engine.fits();
+            engine.isSealed = true;
+            return engine.run() && isReady(found);
         }
 
         /**
@@ -1610,13 +1625,8 @@ public final class Syzygium {
 
         /** Makes ready what an ideal has without a letter. */
         boolean freed(Basis basis, int letter) {
-            find(basis, letter);
-            if (found.count == 0 || found.count > MOST_POLYNOMIALS) {
-                return false;
-            }
-            engine.clean();
-            engine.line(found);
-            if (!engine.run() || engine.work.liveUpTo(MANY) != found.count) {
+            find(basis, none, letter);
+            if (!isFoundSmall()) {
                 return false;
             }
             engine.ring.gone = letter;
@@ -1662,8 +1672,11 @@ public final class Syzygium {
             return NOT_BOUND;
         }
 
-        /** Makes `found` the basis, up to the degree that is kept, of what the ideal has without a letter. */
-        private void find(Basis basis, int letter) {
+        /**
+         * Makes `found` the basis, up to the degree that is kept, of what two ideals have in common, or what one
+         * has without a letter, if this is not -1: words whose rests by the bases depend on those of lesser ones.
+         */
+        private void find(Basis first, Basis second, int letter) {
             Ring ring = engine.ring;
             engine.clean();
             found.count = 0;
@@ -1672,23 +1685,32 @@ public final class Syzygium {
                 for (int middle = 0; middle <= degree; middle++) {
                     for (int low = 0; low <= degree; low++) {
                         long word = (long) degree << 24 | (long) middle << 12 | low;
-                        if (ring.isWord(degree, middle, low) && ring.power(word, letter) == 0
+                        if (ring.isWord(degree, middle, low) && (letter < 0 || ring.power(word, letter) == 0)
                                 && found.divisorOf(word) < 0) {
-                            findAt(basis, word);
+                            made.count = 0;
+                            addRest(first, word, TOP * 2);
+                            addRest(second, word, TOP);
+                            made.append(word << 3 | 1);
+                            settle();
                         }
                     }
                 }
             }
         }
 
-        /** Looks whether the rest of a word depends on those of lesser ones. */
-        private void findAt(Basis basis, long word) {
-            Bucket bucket = engine.bucket;
-            bucket.empty();
-            bucket.addWord(word, 1);
+        /** Appends the rest of a word by a basis, if there is any, lifted. */
+        private void addRest(Basis basis, long word, long lift) {
+            engine.bucket.empty();
+            engine.bucket.addWord(word, basis.count > 0 ? 1 : 0);
             engine.drainBy(basis);
-            made.copy(engine.out, TOP);
-            made.append(word << 3 | 1);
+            for (int i = 0; i < engine.out.count; i++) {
+                made.append(engine.out.get(i) + (lift << 3));
+            }
+        }
+
+        /** Takes from `made` what the rows tell already; keeps what is left as a row, or as found if it has no top. */
+        private void settle() {
+            Bucket bucket = engine.bucket;
             bucket.empty();
             bucket.add(made, 0, 0, 1);
             made.count = 0;
@@ -1704,14 +1726,17 @@ public final class Syzygium {
                     bucket.add(rows.at(row), 1, 0, engine.ring.prime - ((int) term & 7));
                 }
             }
-            bucket.empty();
-            bucket.add(made, 0, 0, engine.ring.inverse((int) made.get(0) & 7));
-            engine.drain();
+            made.scale(engine.ring.inverse((int) made.get(0) & 7));
             if (made.head() < TOP) {
-                found.add(engine.out, 0, 0);
+                found.add(made, 0, 0);
             } else {
-                rows.add(engine.out, 0, 0);
+                rows.add(made, 0, 0);
             }
+        }
+
+        /** Whether what has been found may be a basis that is kept: not one that is 0, or goes on in higher degrees. */
+        private boolean isFoundSmall() {
+            return found.count > 0 && found.count <= MOST_POLYNOMIALS && engine.isClosed(found);
         }
 
         private int rowOf(long word) {
@@ -2131,14 +2156,18 @@ public final class Syzygium {
             for (int i = 0; i < basis.count; i++) {
                 all = ring.common(all, basis.leadAt(i));
             }
-            Arrays.fill(numbers[ideal], 0);
+            int[] row = numbers[ideal];
+            Arrays.fill(row, 0);
             engine.clean();
             for (int j = 0; j <= LAST_J && j <= Ring.degree(all); j++) {
                 int image = 0;
                 for (int i = Math.min(j, ring.letters); i >= 0; i--) {
                     int here = Words.choose(ring.letters, i) * Words.free(ring, basis, j - i);
                     int onward = i == 0 ? 0 : rank(basis, i, j);
-                    numbers[ideal][i * (LAST_J + 1) + j] = here - onward - image;
+                    int place = i * (LAST_J + 1) + j;
+                    if (place < row.length) {
+                        row[place] = here - onward - image;
+                    }
                     image = onward;
                 }
             }
@@ -2383,7 +2412,7 @@ public final class Syzygium {
         /** Whether the facets, at most 8, can be put in a row as a shelling asks: tried for all sets that stand ahead. */
         boolean hasRow() {
             int number = Math.min(facetCount(), MOST_SHELLED);
-            for (int i = 0; i < number; i++) {
+            for (int i = 0; i < number && i < facets.length; i++) {
                 facets[i] = facet(i);
                 if (Integer.bitCount(facets[i]) != Integer.bitCount(facets[0])) {
                     return false;
@@ -2405,6 +2434,9 @@ public final class Syzygium {
 
         /** Whether each face that a facet shares with those ahead is within a shared one of one dimension less. */
         private boolean mayFollow(int ahead, int next, int number) {
+            if (next < 0 || next >= facets.length || number > facets.length) {
+                return false;
+            }
             int facet = facets[next];
             for (int i = 0; i < number; i++) {
                 if ((ahead >> i & 1) == 0) {
