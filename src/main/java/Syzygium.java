@@ -598,8 +598,9 @@ public final class Syzygium {
     }
 
     /**
-     * Takes the greatest number so many times; what is left is reached by the two others in ways that grow by 1
-     * with each common multiple of these, so one look serves for all such steps.
+     * Takes the greatest number so many times; what is left is reached by the two others, if their greatest common
+     * divisor divides it, in ways that grow by 1 with each common multiple of these: one look serves for all
+     * takings that differ by such multiples.
      */
     private static long waysOfThree(int one, int two, int three, int sum) {
         int great = Math.max(one, Math.max(two, three));
@@ -617,21 +618,18 @@ public final class Syzygium {
         for (int times = 0; times <= most && times < period; times++) {
             long terms = (most - times) / Math.max(1, period) + 1;
             long last = sum - great * (times + (terms - 1) * period);
-            ways += terms * waysOfTwo(middle, small, gcd, (int) last) + growth * (terms * (terms - 1) / 2);
+            if (last % gcd == 0) {
+                ways += terms * waysOfTwo(middle, small, common, (int) last) + growth * (terms * (terms - 1) / 2);
+            }
         }
         return ways;
     }
 
-    /** In how many ways two numbers with a greatest common divisor reach a sum. */
-    private static long waysOfTwo(int one, int two, int gcd, int sum) {
-        if (gcd < 1 || sum < 0 || sum % gcd != 0) {
-            return 0;
-        }
-        int step = Math.max(1, two / gcd);
-        for (int times = 0; times < step && (long) times * one <= sum; times++) {
-            int left = sum - times * one;
-            if (two > 0 && left % two == 0) {
-                return left / Math.max(1, one * step) + 1;
+    /** In how many ways two numbers, whose least common multiple is told, reach a sum. */
+    private static long waysOfTwo(int one, int two, int common, int sum) {
+        for (int part = 0; part < common && part <= sum; part += Math.max(1, one)) {
+            if (two > 0 && (sum - part) % two == 0) {
+                return (sum - part) / Math.max(1, common) + 1;
             }
         }
         return 0;
