@@ -1164,7 +1164,7 @@ public final class Syzygium {
         /** The pair that is to come next, -1 if there is none. */
         int best() {
             int best = -1;
-            for (int i = 0; isPlace(i); i++) {
+            for (int i = 0; i < count && i < rank.length && i < common.length; i++) {
                 if (best < 0 || rank[i] < rank[best] || rank[i] == rank[best] && common[i] < common[best]) {
                     best = i;
                 }
@@ -1176,8 +1176,8 @@ public final class Syzygium {
         void sift(int start) {
             for (int i = count - 1; i >= start && isPlace(i); i--) {
                 boolean isCovered = false;
-                for (int k = Math.max(start, 0); isPlace(k) && !idle[i] && !isCovered; k++) {
-                    isCovered = k != i && ring.divides(common[k], common[i]);
+                for (int k = Math.max(start, 0); k < count && !idle[i] && !isCovered; k++) {
+                    isCovered = k != i && isPlace(k) && ring.divides(common[k], common[i]);
                 }
                 if (isCovered) {
                     remove(i);
@@ -2023,19 +2023,38 @@ public final class Syzygium {
                     || z > 0 && ring.power(word, 2) >= z;
         }
 
-        /** Whether the ideal is what its components have in common: no word beyond these powers tells more. */
+        /**
+         * Whether the ideal is what its components have in common: each of them is around it, as isPiece asks, and
+         * each word that is not in it is not in one of them, that beyond which its powers can't be raised.
+         */
         static boolean meetIn(Ring ring, Basis basis) {
-            for (int words = 0; words < 512; words++) {
-                long word = ring.word(words >> 6, words >> 3 & 7, words & 7);
-                boolean isInAll = true;
-                for (int code = 0; code < 512 && isInAll; code++) {
-                    isInAll = isIn(ring, word, code >> 6, code >> 3 & 7, code & 7) || !isPiece(ring, basis, code);
-                }
-                if (isInAll != basis.divisorOf(word) >= 0) {
-                    return false;
+            for (int x = 0; x < BEYOND; x++) {
+                for (int y = 0; y < BEYOND; y++) {
+                    for (int z = 0; z < BEYOND; z++) {
+                        boolean isOut = basis.divisorOf(ring.word(x, y, z)) < 0;
+                        if (isOut && !isPiece(ring, basis, beyond(ring, basis, x, y, z))) {
+                            return false;
+                        }
+                    }
                 }
             }
             return true;
+        }
+
+        private static int beyond(Ring ring, Basis basis, int x, int y, int z) {
+            int a = x;
+            int b = y;
+            int c = z;
+            while (a < BEYOND && basis.divisorOf(ring.word(a + 1, b, c)) < 0) {
+                a++;
+            }
+            while (b < BEYOND && basis.divisorOf(ring.word(a, b + 1, c)) < 0) {
+                b++;
+            }
+            while (c < BEYOND && basis.divisorOf(ring.word(a, b, c + 1)) < 0) {
+                c++;
+            }
+            return (a + 1) % (BEYOND + 1) << 6 | (b + 1) % (BEYOND + 1) << 3 | (c + 1) % (BEYOND + 1);
         }
     }
 
@@ -2056,10 +2075,11 @@ public final class Syzygium {
             rows = 0;
             columns = 0;
             if (cells > cell.length) {
-                if (!ring.allots(cells)) {
+                int wish = Math.max(cells, 2 * cell.length);
+                if (!ring.allots(wish)) {
                     return;
                 }
-                cell = new int[cells];
+                cell = new int[wish];
             }
             rows = Math.max(0, rowNumber);
             columns = Math.max(0, columnNumber);
@@ -2407,7 +2427,7 @@ public final class Syzygium {
             sets = turned;
         }
 
-        /** Whether the facets, at most 8, can be put in a row as a shelling asks: tried for all sets that stand ahead. */
+        /** Whether the facets, at most 8, can be put in a row as a shelling asks: for all sets that may stand ahead. */
         boolean hasRow() {
             int number = Math.min(facetCount(), MOST_SHELLED);
             for (int i = 0; i < number && i < facets.length; i++) {

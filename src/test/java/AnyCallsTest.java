@@ -71,8 +71,8 @@ public final class AnyCallsTest {
         Object[] values = new Object[method.getParameterCount()];
         for (int i = 0; i < values.length; i++) {
             int number = isOdd || random.nextInt(12) == 0 ? ODD[random.nextInt(ODD.length)] : random.nextInt(5);
-            values[i] = method.getParameterTypes()[i] == char.class ? (Object) "gd+*&:~gd+*&:~x".charAt(random.nextInt(15))
-                : (Object) number;
+            char sign = "gd+*&:~gd+*&:~x".charAt(random.nextInt(15));
+            values[i] = method.getParameterTypes()[i] == char.class ? (Object) sign : (Object) number;
         }
         if (method.getName().equals("begin") && !isOdd) {
             values[0] = new int[] {2, 3, 5, 7}[random.nextInt(4)];

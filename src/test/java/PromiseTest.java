@@ -90,6 +90,7 @@ public final class PromiseTest {
         sums();
         shares();
         full();
+        orders();
         unchanged();
         System.out.println(looked + " looks, " + wrong + " wrong");
         if (wrong != 0) {
@@ -156,7 +157,8 @@ public final class PromiseTest {
         s.ideal();
         due("3: numbers modulo the prime", basis(s, 0), "040: 1.040 4.000");
         int[][] wrongWords = {{5, 0, 0}, {0, 5, 0}, {0, 0, 5}, {-1, 0, 0}, {0, -1, 0}, {0, 0, -1}, {3, 2, 0},
-            {2, 2, 1}, {Integer.MAX_VALUE, 1, 0}, {Integer.MIN_VALUE, 0, 0}, {Integer.MAX_VALUE, Integer.MAX_VALUE, 4}};
+            {2, 2, 1}, {5, -1, 0}, {Integer.MAX_VALUE, 1, 0}, {Integer.MIN_VALUE, 0, 0},
+            {Integer.MAX_VALUE, Integer.MAX_VALUE, 4}};
         for (int[] w : wrongWords) {
             due("3: wrong powers", of(() -> s.term(1, w[0], w[1], w[2])), ARGUMENT);
             due("3: wrong powers with the number 0", of(() -> s.term(0, w[0], w[1], w[2])), ARGUMENT);
@@ -212,7 +214,8 @@ public final class PromiseTest {
         due("7: nothing has come", r.ideals(), 0);
         due("7: degree 6 is not refused", basis(r, ideal(r, "1 400; 1 310, 1 130")),
             "310: 1.310 1.130; 400: 1.400; 230: 1.230; 150: 1.150");
-        due("7: what comes on the way is not", basis(r, ideal(r, "1 400; 1 310, 1 040; 1 100, 1 010, 1 000")), "000: 1.000");
+        due("7: what comes on the way is not", basis(r, ideal(r, "1 400; 1 310, 1 040; 1 100, 1 010, 1 000")),
+            "000: 1.000");
         Syzygium q = ring(2, 3, 'g');
         due("7: nine", q.size(ideal(q, "1 400; 1 040; 1 004; 1 220, 1 111, 1 013")), 9);
         due("7: not graded", basis(q, ideal(q, "1 400, 1 011; 1 130, 1 100; 1 004, 1 010")),
@@ -460,8 +463,8 @@ public final class PromiseTest {
         due("23: of two quadrics", series, "1 0 -2 0 1 0 0 0 ");
         due("23: of 0", s.series(zero, 0) + " " + s.series(zero, 1) + " " + s.series(zero, 60), "1 0 0");
         due("23: of all", s.series(all, 0), 0);
-        due("23: (1 - t)(1 - t^2)(1 - t^3)", s.series(points, 1) + " " + s.series(points, 4) + " " + s.series(points, 6),
-            "-1 1 -1");
+        due("23: (1 - t)(1 - t^2)(1 - t^3)", s.series(points, 1) + " " + s.series(points, 4) + " "
+            + s.series(points, 6), "-1 1 -1");
         due("23: no ideal first", of(() -> s.series(4, 61)), INDEX);
         due("23: 61", of(() -> s.series(0, 61)), ARGUMENT);
         due("23: -1", of(() -> s.series(0, -1)), ARGUMENT);
@@ -736,8 +739,8 @@ public final class PromiseTest {
         due("45: not reached", s.ways(6, 10, 15, 29), 0);
         due("45: 0", s.ways(1000, 1000, 1000, 0), 1);
         due("45: by turns", s.ways(6, 24, 39, 15996), 68804);
-        int[][] wrongOnes = {{0, 1, 1, 1}, {1, 0, 1, 1}, {1, 1, 0, 1}, {1001, 1, 1, 1}, {1, 1001, 1, 1}, {1, 1, 1001, 1},
-            {1, 1, 1, -1}, {1, 1, 1, 1000001}, {-1, 1, 1, 1}, {1, 1, 1, Integer.MIN_VALUE}};
+        int[][] wrongOnes = {{0, 1, 1, 1}, {1, 0, 1, 1}, {1, 1, 0, 1}, {1001, 1, 1, 1}, {1, 1001, 1, 1},
+            {1, 1, 1001, 1}, {1, 1, 1, -1}, {1, 1, 1, 1000001}, {-1, 1, 1, 1}, {1, 1, 1, Integer.MIN_VALUE}};
         for (int[] w : wrongOnes) {
             due("45: out of range", of(() -> s.ways(w[0], w[1], w[2], w[3])), ARGUMENT);
         }
@@ -827,6 +830,28 @@ public final class PromiseTest {
         list(t, "1 400; 1 310, 1 040");
         due("7: refused before that there are 12", of(t::ideal), REFUSED);
         due("7: the list stays", t.dropList(), 2);
+    }
+
+    /** Where the only ideal is neither graded nor of words, a missing one is told as missing first. */
+    private static void orders() {
+        Syzygium s = ring(3, 2, 'g');
+        ideal(s, "1 400, 1 010; 1 040, 1 100, 1 000");
+        due("28: missing first", of(() -> s.table(1, 0, 0)), INDEX);
+        due("29: missing first", of(() -> s.length(1)), INDEX);
+        due("30: missing first", of(() -> s.regularity(1)), INDEX);
+        due("31: missing first", of(() -> s.depth(-1)), INDEX);
+        due("33: missing first", of(() -> s.components(1)), INDEX);
+        due("34: missing first", of(() -> s.componentAt(1, 0, 0)), INDEX);
+        due("35: missing first", of(() -> s.primes(1)), INDEX);
+        due("36: missing first", of(() -> s.primeAt(1, 0)), INDEX);
+        due("37: missing first", of(() -> s.radical(1)), INDEX);
+        for (int i = 1; i < 12; i++) {
+            s.ideal();
+        }
+        due("19: refused before that there are 12", of(() -> s.without(0, 0)), REFUSED);
+        due("19: no letter before that", of(() -> s.without(0, 2)), ARGUMENT);
+        due("18: no kind before that", of(() -> s.join('?', 0, 0)), ARGUMENT);
+        due("18: missing before that", of(() -> s.join('*', 0, 12)), INDEX);
     }
 
     private static void unchanged() {

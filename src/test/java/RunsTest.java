@@ -21,7 +21,8 @@ public final class RunsTest {
             String got = answer(parts[0].trim().split(" ")).trim();
             if (!got.equals(parts[1].trim())) {
                 wrong++;
-                System.out.println(wrong > 20 ? "and so on" : "line " + (i + 1) + ": " + parts[0] + " answered " + got + ", due is " + parts[1]);
+                System.out.println(wrong > 20 ? "and so on"
+                    : "line " + (i + 1) + ": " + parts[0] + " answered " + got + ", due is " + parts[1]);
             }
         }
         System.out.println(lines.size() + " calls of runs, " + wrong + " wrong");
