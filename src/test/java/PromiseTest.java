@@ -359,6 +359,9 @@ public final class PromiseTest {
         ideal(big, "1 400, 1 010, 2 001; 1 040, 3 111, 1 000");
         ideal(big, "1 400, 3 020, 1 001; 1 004, 3 110, 5 000");
         due("18: a meet of high degrees", of(() -> big.join('&', 0, 1)), REFUSED);
+        int plane = ideal(big, "1 200; 1 040");
+        int other = ideal(big, "1 200; 1 004");
+        due("18: a square, and degree 8 beside it", of(() -> big.join('&', plane, other)), REFUSED);
         due("18: it is all", basis(big, big.join('~', 1, 0)), basis(big, big.join(':', 1, 0)));
     }
 
@@ -381,6 +384,10 @@ public final class PromiseTest {
         ideal(t, "1 400, 1 010; 1 040, 1 100, 1 000");
         due("19: degree 16 is refused", of(() -> t.without(0, 0)), REFUSED);
         due("19: no z", of(() -> t.without(0, 2)), ARGUMENT);
+        Syzygium v = ring(3, 3, 'g');
+        int eight = ideal(v, "1 020; 1 004, -1 100; 1 200");
+        due("19: a square, and z to the power of 8 beside it", of(() -> v.without(eight, 0)), REFUSED);
+        due("19: but without y", basis(v, v.without(eight, 1)), "200: 1.200; 004: 2.100 1.004");
         Syzygium u = ring(7, 3, 'd');
         ideal(u, "1 400, 1 110, 2 001; 1 040, 3 111, 1 000");
         due("19: a curve of degree 16", of(() -> u.without(0, 0)), REFUSED);
