@@ -155,7 +155,8 @@ public final class Syzygium {
             throw new IndexOutOfBoundsException();
         }
         engine.clean();
-        return engine.isIn(current, basis(ideal));
+        engine.divide(current, basis(ideal));
+        return engine.out.count == 0;
     }
 
     public int rest(int ideal) throws IndexOutOfBoundsException {
@@ -173,7 +174,8 @@ public final class Syzygium {
             throw new IndexOutOfBoundsException();
         }
         engine.clean();
-        if (engine.isIn(current, basis(ideal))) {
+        engine.divide(current, basis(ideal));
+        if (engine.out.count == 0) {
             return true;
         }
         works.by.count = 0;
@@ -1261,8 +1263,10 @@ public final class Syzygium {
                     rank = queue.rankAt(next);
                     bucket.add(queue.at(next), 0, 0, 1);
                     queue.drop(next);
-                } else {
-                    loadPair(pair);
+                } else if (pairs.isPlace(pair)) {
+                    rank = pairs.rankAt(pair);
+                    addDifference(work, pairs.one[pair], pairs.other[pair], pairs.common[pair]);
+                    pairs.remove(pair);
                 }
                 drainBy(work);
                 if (out.count > 0) {
@@ -1294,18 +1298,7 @@ public final class Syzygium {
             return best;
         }
 
-        private void loadPair(int pair) {
-            if (!pairs.isPlace(pair)) {
-                return;
-            }
-            int one = pairs.one[pair];
-            int other = pairs.other[pair];
-            long word = pairs.common[pair];
-            rank = pairs.rankAt(pair);
-            pairs.remove(pair);
-            addDifference(work, one, other, word);
-        }
-
+        /** Adds the difference of two polynomials that are raised to a word which goes out. */
         private void addDifference(Basis basis, int one, int other, long word) {
             bucket.add(basis.at(one), 1, word - basis.leadAt(one), 1);
             bucket.add(basis.at(other), 1, word - basis.leadAt(other), ring.prime - 1);
@@ -1435,15 +1428,13 @@ public final class Syzygium {
             drainBy(basis);
         }
 
-        boolean isIn(Poly p, Basis basis) {
-            divide(p, basis);
-            return out.count == 0;
-        }
-
         boolean isInside(Basis basis, Basis whole) {
             for (int i = 0; i < basis.count; i++) {
-                if (basis.isLive(i) && !isIn(basis.at(i), whole)) {
-                    return false;
+                if (basis.isLive(i)) {
+                    divide(basis.at(i), whole);
+                    if (out.count > 0) {
+                        return false;
+                    }
                 }
             }
             return true;
