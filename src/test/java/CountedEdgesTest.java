@@ -504,7 +504,8 @@ public final class CountedEdgesTest {
             Calls.due("all", Calls.of(() -> s.primeAt(1, 0)), Calls.NONE);
         });
         Calls.test("35, 36: unlike ones, a sum of 1, 2 and 4, ordered by numbers", () -> {
-            String[][] due = {{"1 100", "1 "}, {"1 010", "2 "}, {"1 001", "4 "}, {"1 110", "1 2 "}, {"1 111", "1 2 4 "},
+            String[][] due = {{"1 100", "1 "}, {"1 010", "2 "}, {"1 001", "4 "}, {"1 400", "1 "},
+                {"1 040", "2 "}, {"1 004", "4 "}, {"1 200; 1 004", "5 "}, {"1 020; 1 004", "6 "}, {"1 110", "1 2 "}, {"1 111", "1 2 4 "},
                 {"1 400; 1 040; 1 004", "7 "}, {"1 210; 1 021; 1 102", "3 5 6 7 "}, {"1 110; 1 011; 1 101", "3 5 6 "},
                 {"1 220; 1 310; 1 130", "1 2 3 "}, {"1 200; 1 110; 1 101", "1 7 "}};
             for (String[] d : due) {
@@ -517,6 +518,30 @@ public final class CountedEdgesTest {
                 Calls.due(d[0], b, d[1]);
                 for (int no : new int[] {Calls.LEAST, -1, s.primes(0), 8, 32, Calls.MOST}) {
                     Calls.due(d[0] + " " + no, Calls.of(() -> s.primeAt(0, no)), Calls.NONE);
+                }
+            }
+        });
+        Calls.test("36: whatever the powers are, up to 6", () -> {
+            for (int x = 0; x <= 6; x += 2) {
+                for (int y = 0; y <= 6; y += 2) {
+                    for (int z = 0; z <= 6; z += 2) {
+                        Syzygium s = Calls.ring(2, 3, 'g');
+                        int sum = Calls.ideal(s, "");
+                        int due = 0;
+                        int[] powers = {x, y, z};
+                        for (int letter = 0; letter < 3; letter++) {
+                            int half = powers[letter] / 2;
+                            if (half > 0) {
+                                s.term(1, letter == 0 ? half : 0, letter == 1 ? half : 0, letter == 2 ? half : 0);
+                                s.push();
+                                int root = s.ideal();
+                                sum = s.join('+', sum, s.join('*', root, root));
+                                due += 1 << letter;
+                            }
+                        }
+                        Calls.due("" + x + y + z, s.primes(sum) + " " + s.primeAt(sum, 0), "1 " + due);
+                        Calls.due("" + x + y + z, componentsTold(s, sum, 3), "" + x + y + z + " ");
+                    }
                 }
             }
         });
@@ -595,6 +620,19 @@ public final class CountedEdgesTest {
     }
 
     private static void sums() {
+        Calls.test("46, 47, 48: of the ideals that there are now, and of their bases alone", () -> {
+            Syzygium s = Calls.ring(5, 3, 'g');
+            for (int i = 0; i < 12; i++) {
+                Calls.ideal(s, "1 400; 1 040, 1 100; 1 004; 1 111");
+            }
+            Calls.due("12 large ones", s.gradedShare() + " " + s.meanSize(), "0.0 5.0");
+            s.begin(5, 3, 'g');
+            Calls.due("none", s.checksum(), 7);
+            Calls.ideal(s, "1 100");
+            Calls.due("one", s.gradedShare() + " " + s.meanSize() + " " + s.checksum(), "1.0 1.0 " + (31 * 7 + 12));
+            Calls.ideal(s, "");
+            Calls.due("and 0", s.gradedShare() + " " + s.meanSize() + " " + s.checksum(), "1.0 0.5 " + (31 * 7 + 12));
+        });
         Calls.test("48: 7 at first, and of ideals without polynomials", () -> {
             Syzygium s = new Syzygium();
             Calls.due("none", s.checksum(), 7);

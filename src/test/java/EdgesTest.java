@@ -421,6 +421,21 @@ public final class EdgesTest {
                 Calls.due("each stays", s.size(i), 1 - i % 2);
             }
         });
+        for (String kind : new String[] {"+", "*", "&", ":", "~", "w", "r", "i"}) {
+            Calls.test("ideals: at most 12, numbered from 0: " + kind + " makes the number 11, and none beyond", () -> {
+                Syzygium s = Calls.ring(3, 3, 'g');
+                for (int i = 0; i < 11; i++) {
+                    Calls.ideal(s, "1 101");
+                }
+                for (int due = 11; due <= 12; due++) {
+                    Object made = Calls.of(() -> kind.equals("w") ? s.without(10, 1) : kind.equals("r") ? s.radical(10)
+                        : kind.equals("i") ? s.ideal() : s.join(kind.charAt(0), 10, 9));
+                    Calls.due("number", made, due < 12 ? due : Calls.STATE);
+                    Calls.due("ideals", s.ideals(), 12);
+                }
+                Calls.due("the others stay", Calls.leads(s, 0, 3) + " " + Calls.leads(s, 10, 3), "101 101");
+            });
+        }
         Calls.test("ideals: no word but the leading one is divided by a leading word, with the number 1 there", () -> {
             Syzygium s = Calls.ring(7, 3, 'g');
             Calls.ideal(s, "3 200, 1 110, 2 001; 5 110, 1 010; 6 010, 4 001");
@@ -603,15 +618,20 @@ public final class EdgesTest {
             Calls.due(there, 4);
         });
         Calls.test("12: 0 if a power cannot be, though others make good for it", () -> {
-            Syzygium s = Calls.ring(7, 3, 'd');
-            Calls.ideal(s, "1 211, 3 110, 5 000");
-            int[] no = {Calls.LEAST, -4096, -4095, -2, -1, 7, 8, 41, 4095, 4096, 4098, 1 << 24, (1 << 24) + 2, Calls.MOST};
-            for (int power : no) {
-                for (int rest = 0; rest <= 2; rest++) {
-                    Calls.due("x " + power, s.numberOf(0, 0, power, rest, 1), 0);
-                    Calls.due("y " + power, s.numberOf(0, 0, rest, power, 1), 0);
-                    Calls.due("z " + power, s.numberOf(0, 0, rest, 1, power), 0);
-                    Calls.due("x and y " + power, s.numberOf(0, 0, power, -power, rest), 0);
+            int[] no = {Calls.LEAST, -4097, -4096, -4095, -2, -1, 7, 8, 41, 4095, 4096, 4097, 4098, 1 << 24, Calls.MOST};
+            for (char order : new char[] {'g', 'd'}) {
+                Syzygium s = Calls.ring(7, 3, order);
+                Calls.ideal(s, "1 211, 3 110, 2 100, 4 010, 6 001, 5 000");
+                for (int power : no) {
+                    for (int rest = 0; rest <= 2; rest++) {
+                        Calls.due("x " + power, s.numberOf(0, 0, power, rest, 1), 0);
+                        Calls.due("y " + power, s.numberOf(0, 0, rest, power, 1), 0);
+                        Calls.due("z " + power, s.numberOf(0, 0, rest, 1, power), 0);
+                        Calls.due("x and y " + power, s.numberOf(0, 0, power, rest - power, 0), 0);
+                        Calls.due("x and z " + power, s.numberOf(0, 0, power, 0, rest - power), 0);
+                        Calls.due("y and z " + power, s.numberOf(0, 0, 0, power, rest - power), 0);
+                        Calls.due("x, y and z " + power, s.numberOf(0, 0, 1, power, rest - 1 - power), 0);
+                    }
                 }
             }
         });
@@ -720,6 +740,18 @@ public final class EdgesTest {
             Calls.due("y", s.inRadical(0), false);
             Calls.poly(s, "-1 010, 1 400, -1 000");
             Calls.due("x^4 - 1", s.inRadical(0), true);
+        });
+        Calls.test("15: whatever was asked before", () -> {
+            Syzygium s = Calls.ring(5, 2, 'g');
+            Calls.ideal(s, "1 200");
+            Calls.ideal(s, "1 010");
+            Calls.poly(s, "1 010");
+            Calls.due("y is in (y)", s.has(1), true);
+            Calls.due("y is not in the radical of (x^2)", s.inRadical(0), false);
+            Calls.due("y is not there still", s.inRadical(0), false);
+            Calls.poly(s, "4 010, 1 100");
+            Calls.due("x is", s.inRadical(0), true);
+            Calls.due("x is not in that of (y)", s.inRadical(1), false);
         });
         Calls.test("15: the polynomial stays", () -> {
             Syzygium s = Calls.ring(3, 2, 'g');
@@ -855,6 +887,19 @@ public final class EdgesTest {
                         Calls.due("without another one", s.isSame(same, s.ideals() - 3), true);
                     }
                 }
+            }
+        });
+        Calls.test("19: the letter in the least polynomial, or in what all have in common", () -> {
+            for (char order : new char[] {'g', 'd'}) {
+                Syzygium s = Calls.ring(5, 3, order);
+                Calls.ideal(s, "1 110; 1 030");
+                Calls.due("x in xy alone", Calls.leads(s, s.without(0, 0), 3), "030");
+                Calls.due("y in both", s.size(s.without(0, 1)), 0);
+                Calls.due("z in none", s.isSame(s.without(0, 2), 0), true);
+                s.begin(5, 2, order);
+                Calls.ideal(s, "1 110, 1 010; 1 030, 1 010");
+                Calls.due("two letters, x", Calls.basis(s, s.without(0, 0), 2, order), "1.030 1.010");
+                Calls.due("two letters, y", s.size(s.without(0, 1)), 0);
             }
         });
         Calls.test("19: letters 0 to the last one", () -> {

@@ -24,6 +24,7 @@ public final class RefusedTest {
         for (int letters = 2; letters <= 3; letters++) {
             rings(letters);
             lists(letters);
+            looks(letters);
             for (boolean isFull : new boolean[] {false, true}) {
                 missing(letters, isFull);
                 bases(letters, isFull);
@@ -158,6 +159,36 @@ public final class RefusedTest {
             s.dropList();
             return s;
         }, s -> s.ideal(), Calls.STATE);
+    }
+
+    /** What only looks changes nothing either, whatever it answers; a rest is made of the polynomial alone. */
+    private static void looks(int letters) {
+        String[] names = {"size", "lead", "words", "numberOf", "has", "inRadical", "isGraded", "standard", "standardAt",
+            "series", "polynomial", "dimension", "multiplicity", "roots", "table", "length", "regularity", "depth",
+            "isOfWords", "components", "componentAt", "primes", "primeAt"};
+        for (boolean isFull : new boolean[] {false, true}) {
+            Calls.test("a look changes nothing", () -> {
+                Syzygium s = state(letters, isFull);
+                for (String name : names) {
+                    for (int ideal = 0; ideal < 5; ideal++) {
+                        int i = ideal;
+                        Object first = Calls.of(() -> called(s, name, i, 0));
+                        Calls.due(name, Calls.of(() -> called(s, name, i, 0)), first);
+                    }
+                }
+                for (int ideal = 0; ideal < 25; ideal++) {
+                    Calls.due("same", s.isSame(ideal / 5, ideal % 5), ideal / 5 == ideal % 5);
+                    Calls.due("within", s.isWithin(ideal / 5, ideal % 5), ideal / 5 == ideal % 5 || ideal / 5 == ZERO
+                        || ideal % 5 == ALL);
+                }
+                Calls.due("shelled", s.canBeShelled(), false);
+                Calls.due("ways", s.ways(3, 5, 7, 100), 55);
+                Calls.due("sound", s.isSound(), true);
+                Calls.due("sums", s.checksum() + " " + s.gradedShare() + " " + s.meanSize(),
+                    s.checksum() + " " + s.gradedShare() + " " + s.meanSize());
+                Calls.due("nothing is changed", told(s, PRIME), told(state(letters, isFull), PRIME));
+            });
+        }
     }
 
     private static void missing(int letters, boolean isFull) {
