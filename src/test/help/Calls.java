@@ -227,4 +227,36 @@ public final class Calls {
         }
         return true;
     }
+
+    /** Calls a method of one ideal, each other argument being the same number. */
+    public static Object called(Syzygium s, String name, int ideal, int other) {
+        switch (name) {
+            case "size": return s.size(ideal);
+            case "lead": return s.lead(ideal, other, other);
+            case "words": return s.words(ideal, other);
+            case "numberOf": return s.numberOf(ideal, other, other, other, other);
+            case "has": return s.has(ideal);
+            case "rest": return s.rest(ideal);
+            case "inRadical": return s.inRadical(ideal);
+            case "without": return s.without(ideal, other);
+            case "isGraded": return s.isGraded(ideal);
+            case "standard": return s.standard(ideal, other);
+            case "standardAt": return s.standardAt(ideal, other, other);
+            case "series": return s.series(ideal, other);
+            case "polynomial": return s.polynomial(ideal, other);
+            case "dimension": return s.dimension(ideal);
+            case "multiplicity": return s.multiplicity(ideal);
+            case "roots": return s.roots(ideal);
+            case "table": return s.table(ideal, other, other);
+            case "length": return s.length(ideal);
+            case "regularity": return s.regularity(ideal);
+            case "depth": return s.depth(ideal);
+            case "isOfWords": return s.isOfWords(ideal);
+            case "components": return s.components(ideal);
+            case "componentAt": return s.componentAt(ideal, other, other);
+            case "primes": return s.primes(ideal);
+            case "primeAt": return s.primeAt(ideal, other);
+            default: return s.radical(ideal);
+        }
+    }
 }

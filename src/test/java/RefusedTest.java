@@ -172,8 +172,8 @@ public final class RefusedTest {
                 for (String name : names) {
                     for (int ideal = 0; ideal < 5; ideal++) {
                         int i = ideal;
-                        Object first = Calls.of(() -> called(s, name, i, 0));
-                        Calls.due(name, Calls.of(() -> called(s, name, i, 0)), first);
+                        Object first = Calls.of(() -> Calls.called(s, name, i, 0));
+                        Calls.due(name, Calls.of(() -> Calls.called(s, name, i, 0)), first);
                     }
                 }
                 for (int ideal = 0; ideal < 25; ideal++) {
@@ -199,12 +199,12 @@ public final class RefusedTest {
             "33 components", "34 componentAt", "35 primes", "36 primeAt", "37 radical"};
         for (String name : names) {
             for (int no : MISSING) {
-                refused(name + " " + no, maker, s -> called(s, name.substring(3), no, 0), Calls.INDEX);
-                refused(name + " " + no + ", and nothing else is right", maker, s -> called(s, name.substring(3), no, -1),
+                refused(name + " " + no, maker, s -> Calls.called(s, name.substring(3), no, 0), Calls.INDEX);
+                refused(name + " " + no + ", and nothing else is right", maker, s -> Calls.called(s, name.substring(3), no, -1),
                     Calls.INDEX);
             }
             if (!isFull) {
-                refused(name + " 5", maker, s -> called(s, name.substring(3), 5, 0), Calls.INDEX);
+                refused(name + " 5", maker, s -> Calls.called(s, name.substring(3), 5, 0), Calls.INDEX);
             }
         }
         for (int no : MISSING) {
@@ -214,38 +214,6 @@ public final class RefusedTest {
             refused("17: no first one " + no, maker, s -> s.isWithin(no, 0), Calls.INDEX);
             refused("17: no second one " + no, maker, s -> s.isWithin(0, no), Calls.INDEX);
             refused("17: neither " + no, maker, s -> s.isWithin(no, no), Calls.INDEX);
-        }
-    }
-
-    /** Calls a method of one ideal, each other argument being the same number. */
-    private static Object called(Syzygium s, String name, int ideal, int other) {
-        switch (name) {
-            case "size": return s.size(ideal);
-            case "lead": return s.lead(ideal, other, other);
-            case "words": return s.words(ideal, other);
-            case "numberOf": return s.numberOf(ideal, other, other, other, other);
-            case "has": return s.has(ideal);
-            case "rest": return s.rest(ideal);
-            case "inRadical": return s.inRadical(ideal);
-            case "without": return s.without(ideal, other);
-            case "isGraded": return s.isGraded(ideal);
-            case "standard": return s.standard(ideal, other);
-            case "standardAt": return s.standardAt(ideal, other, other);
-            case "series": return s.series(ideal, other);
-            case "polynomial": return s.polynomial(ideal, other);
-            case "dimension": return s.dimension(ideal);
-            case "multiplicity": return s.multiplicity(ideal);
-            case "roots": return s.roots(ideal);
-            case "table": return s.table(ideal, other, other);
-            case "length": return s.length(ideal);
-            case "regularity": return s.regularity(ideal);
-            case "depth": return s.depth(ideal);
-            case "isOfWords": return s.isOfWords(ideal);
-            case "components": return s.components(ideal);
-            case "componentAt": return s.componentAt(ideal, other, other);
-            case "primes": return s.primes(ideal);
-            case "primeAt": return s.primeAt(ideal, other);
-            default: return s.radical(ideal);
         }
     }
 
