@@ -61,14 +61,14 @@ public final class Calls {
         }
     }
 
-    public static Syzygium ring(int prime, int letters, char order) {
-        Syzygium s = new Syzygium();
+    public static Renewed ring(int prime, int letters, char order) {
+        Renewed s = new Renewed();
         s.begin(prime, letters, order);
         return s;
     }
 
     /** Adds terms told as "number xyz-powers", as in "1 200, -1 011". */
-    public static int poly(Syzygium s, String polynomial) {
+    public static int poly(Renewed s, String polynomial) {
         int words = 0;
         for (String term : polynomial.trim().split(",")) {
             String[] t = term.trim().split(" ");
@@ -78,7 +78,7 @@ public final class Calls {
     }
 
     /** Puts polynomials, apart by ';', behind the list; one that is 0 is left out. */
-    public static void list(Syzygium s, String polynomials) {
+    public static void list(Renewed s, String polynomials) {
         for (String polynomial : polynomials.split(";")) {
             if (poly(s, polynomial) > 0) {
                 s.push();
@@ -87,7 +87,7 @@ public final class Calls {
     }
 
     /** Makes the ideal of some polynomials; that of no text is 0. */
-    public static int ideal(Syzygium s, String polynomials) {
+    public static int ideal(Renewed s, String polynomials) {
         if (!polynomials.isEmpty()) {
             list(s, polynomials);
         }
@@ -95,14 +95,14 @@ public final class Calls {
     }
 
     /** Fills the object up to 12 ideals with that of 0. */
-    public static void fill(Syzygium s) {
+    public static void fill(Renewed s) {
         while (s.ideals() < 12) {
             s.ideal();
         }
     }
 
     /** The leading words of a basis, in their row. */
-    public static String leads(Syzygium s, int ideal, int letters) {
+    public static String leads(Renewed s, int ideal, int letters) {
         StringBuilder b = new StringBuilder();
         for (int place = 0; place < s.size(ideal); place++) {
             b.append(place == 0 ? "" : " ");
@@ -114,21 +114,32 @@ public final class Calls {
     }
 
     /** A basis as the data tell it: polynomials apart by "; ", terms as "number.xyz", by falling words. */
-    public static String basis(Syzygium s, int ideal, int letters, char order) {
+    public static String basis(Renewed s, int ideal, int letters, char order) {
         StringBuilder b = new StringBuilder();
-        for (int place = 0; place < s.size(ideal); place++) {
-            b.append(place == 0 ? "" : "; ");
-            int words = 0;
-            for (int[] w : words(letters, 6, order)) {
-                int number = s.numberOf(ideal, place, w[0], w[1], w[2]);
-                if (number != 0) {
-                    b.append(words == 0 ? "" : " ").append(number).append('.').append(w[0]).append(w[1]).append(w[2]);
-                    words++;
-                }
-            }
-            b.append(words == s.words(ideal, place) ? "" : " and more");
+        int size = s.size(ideal);
+        for (int place = 0; place < size; place++) {
+            b.append(place == 0 ? "" : "; ").append(polynomialAt(s, ideal, place, letters, order));
         }
         return b.toString();
+    }
+
+    /** A polynomial of a basis, looked for from its leading word on, until there are as many words as it has. */
+    private static String polynomialAt(Renewed s, int ideal, int place, int letters, char order) {
+        StringBuilder b = new StringBuilder();
+        int[] lead = new int[3];
+        for (int letter = 0; letter < letters; letter++) {
+            int l = letter;
+            lead[letter] = of(() -> s.lead(ideal, place, l)) instanceof Integer power ? power : 0;
+        }
+        int left = s.words(ideal, place);
+        for (int[] w : words(letters, 6, order)) {
+            int number = left == 0 || isGreater(w, lead, order) ? 0 : s.numberOf(ideal, place, w[0], w[1], w[2]);
+            if (number != 0) {
+                b.append(b.length() == 0 ? "" : " ").append(number).append('.').append(w[0]).append(w[1]).append(w[2]);
+                left--;
+            }
+        }
+        return b + (left == 0 ? "" : " and " + left + " more");
     }
 
     /** All words up to a degree, by falling words of an order, as the document tells these. */
@@ -160,45 +171,46 @@ public final class Calls {
     }
 
     /**
-     * All that can be told of the polynomial: the numbers of its words, found by adding each word until it is as
-     * before, and whether there is z. The polynomial is then as before.
+     * All that can be told of the polynomial: the numbers of its words, found by adding each word until it is gone, and
+     * whether there is z. The polynomial is then as before.
      */
-    public static String polynomial(Syzygium s, int prime) {
+    public static String polynomial(Renewed s, int prime) {
         boolean hasZ = of(() -> s.term(0, 0, 0, 1)) instanceof Integer;
         StringBuilder b = new StringBuilder(hasZ ? "xyz" : "xy");
+        int before = s.term(0, 0, 0, 0);
+        int words = 0;
         for (int[] w : words(hasZ ? 3 : 2, 4, 'g')) {
-            int before = s.term(0, 0, 0, 0);
-            int number = 0;
-            for (int k = 1; k <= prime; k++) {
-                if (s.term(1, w[0], w[1], w[2]) < before) {
-                    number = prime - k;
-                }
+            int now = s.term(1, w[0], w[1], w[2]);
+            int number = prime - 1;
+            while (number > 0 && now == before) {
+                now = s.term(1, w[0], w[1], w[2]);
+                number--;
             }
-            if (s.term(0, 0, 0, 0) != before) {
-                b.append(" not modulo ").append(prime);
-            }
-            if (number != 0) {
+            s.term(now < before ? number : -1, w[0], w[1], w[2]);
+            if (now < before) {
                 b.append(' ').append(number).append('.').append(w[0]).append(w[1]).append(w[2]);
+                words++;
             }
         }
-        return b.toString();
+        boolean isAsBefore = words == before && s.term(0, 0, 0, 0) == before;
+        return b + (isAsBefore ? "" : " not modulo " + prime);
     }
 
     /** The same object with the ideal of 0 behind the others. */
-    public static Syzygium zero(Syzygium s) {
+    public static Renewed zero(Renewed s) {
         s.ideal();
         return s;
     }
 
     /** Makes the ideal of 12 words of the degree 4, of three letters. */
-    public static int twelveWords(Syzygium s) {
+    public static int twelveWords(Renewed s) {
         int one = ideal(s, "1 400; 1 040; 1 004; 1 310");
         int other = s.join('+', one, ideal(s, "1 130; 1 103; 1 301; 1 031"));
         return s.join('+', other, ideal(s, "1 013; 1 121; 1 112; 1 211"));
     }
 
     /** Makes the ideal of the sixth powers of three letters. */
-    public static int sixthPowers(Syzygium s) {
+    public static int sixthPowers(Renewed s) {
         int sum = -1;
         for (String power : new String[] {"1 300", "1 030", "1 003"}) {
             int third = ideal(s, power);
@@ -209,7 +221,7 @@ public final class Calls {
     }
 
     /** The powers of the leading words of a basis. */
-    public static int[][] leadsOf(Syzygium s, int ideal, int letters) {
+    public static int[][] leadsOf(Renewed s, int ideal, int letters) {
         int[][] leads = new int[s.size(ideal)][3];
         for (int i = 0; i < leads.length; i++) {
             for (int letter = 0; letter < letters; letter++) {
@@ -229,7 +241,7 @@ public final class Calls {
     }
 
     /** Calls a method of one ideal, each other argument being the same number. */
-    public static Object called(Syzygium s, String name, int ideal, int other) {
+    public static Object called(Renewed s, String name, int ideal, int other) {
         switch (name) {
             case "size": return s.size(ideal);
             case "lead": return s.lead(ideal, other, other);

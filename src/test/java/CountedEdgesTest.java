@@ -34,12 +34,12 @@ public final class CountedEdgesTest {
 
     private static void grading() {
         Calls.test("20: of 0 and of all", () -> {
-            Syzygium s = Calls.ring(5, 2, 'g');
+            Renewed s = Calls.ring(5, 2, 'g');
             Calls.due("0", s.isGraded(Calls.ideal(s, "")), true);
             Calls.due("all", s.isGraded(Calls.ideal(s, "1 000")), true);
         });
         Calls.test("20: each polynomial of the basis, the first and the last one", () -> {
-            Syzygium s = Calls.ring(5, 3, 'g');
+            Renewed s = Calls.ring(5, 3, 'g');
             Calls.due("all", s.isGraded(Calls.ideal(s, "1 100, 2 010; 1 002, 1 011; 1 030")), true);
             Calls.due("the first one is not", s.isGraded(Calls.ideal(s, "1 100, 2 000; 1 020; 1 002")), false);
             Calls.due("the last one is not", s.isGraded(Calls.ideal(s, "1 010; 1 002; 1 300, 1 200")), false);
@@ -62,7 +62,7 @@ public final class CountedEdgesTest {
         return number;
     }
 
-    private static List<Integer> countedOnes(Syzygium s) {
+    private static List<Integer> countedOnes(Renewed s) {
         List<Integer> ideals = new ArrayList<>();
         for (String list : COUNTED) {
             ideals.add(Calls.ideal(s, list));
@@ -74,7 +74,7 @@ public final class CountedEdgesTest {
         for (int letters = 2; letters <= 3; letters++) {
             int n = letters;
             Calls.test("21: degrees 0 to 40, " + letters + " letters", () -> {
-                Syzygium s = Calls.ring(3, n, 'd');
+                Renewed s = Calls.ring(3, n, 'd');
                 for (int ideal : countedOnes(s)) {
                     int[][] leads = Calls.leadsOf(s, ideal, n);
                     for (int degree : new int[] {0, 1, 2, 3, 4, 5, 6, 7, 12, 39, 40}) {
@@ -87,7 +87,7 @@ public final class CountedEdgesTest {
             });
         }
         Calls.test("21: of 0 all words, of all none, of the sixth powers up to the degree 15", () -> {
-            Syzygium s = Calls.ring(3, 3, 'g');
+            Renewed s = Calls.ring(3, 3, 'g');
             int sixth = Calls.sixthPowers(s);
             int zero = Calls.ideal(s, "");
             int all = Calls.ideal(s, "1 000");
@@ -100,7 +100,7 @@ public final class CountedEdgesTest {
 
     private static void standardPlaces() {
         Calls.test("22: index 0 to 99", () -> {
-            Syzygium s = Calls.ring(7, 3, 'g');
+            Renewed s = Calls.ring(7, 3, 'g');
             Calls.ideal(s, "1 010; 1 001");
             Calls.due("0", s.standardAt(0, 0, 0), 0);
             Calls.due("99", s.standardAt(0, 99, 0), 99);
@@ -110,7 +110,7 @@ public final class CountedEdgesTest {
         });
         Calls.test("22: each of the first 100, by rising words", () -> {
             for (char order : new char[] {'g', 'd'}) {
-                Syzygium s = Calls.ring(2, 3, order);
+                Renewed s = Calls.ring(2, 3, order);
                 Calls.ideal(s, "1 210; 1 021, 1 110; 1 003");
                 int[][] leads = Calls.leadsOf(s, 0, 3);
                 List<int[]> words = Calls.words(3, 20, order);
@@ -127,7 +127,7 @@ public final class CountedEdgesTest {
             }
         });
         Calls.test("22: 100 standard words: the last one has the index 99", () -> {
-            Syzygium s = Calls.ring(2, 3, 'g');
+            Renewed s = Calls.ring(2, 3, 'g');
             int y = s.join('*', Calls.ideal(s, "1 040"), Calls.ideal(s, "1 010"));
             int z = s.join('*', Calls.ideal(s, "1 004"), Calls.ideal(s, "1 001"));
             int box = s.join('+', s.join('+', y, z), Calls.ideal(s, "1 400"));
@@ -136,7 +136,7 @@ public final class CountedEdgesTest {
                 + s.standardAt(box, 99, 2), "3 4 4");
         });
         Calls.test("22: 99 standard words: there are not so many with the index 99", () -> {
-            Syzygium s = Calls.ring(2, 3, 'g');
+            Renewed s = Calls.ring(2, 3, 'g');
             int x = s.join('*', Calls.ideal(s, "1 300"), 0);
             int y = s.join('*', Calls.ideal(s, "1 030"), 2);
             int word = s.join('*', Calls.ideal(s, "1 130"), Calls.ideal(s, "1 001"));
@@ -147,7 +147,7 @@ public final class CountedEdgesTest {
             Calls.due("no more", Calls.of(() -> s.standardAt(box, 99, 2)), Calls.NONE);
         });
         Calls.test("22: of all there is none, of one there is the index 0 alone", () -> {
-            Syzygium s = Calls.ring(2, 2, 'g');
+            Renewed s = Calls.ring(2, 2, 'g');
             Calls.ideal(s, "1 000");
             Calls.ideal(s, "1 100; 1 010");
             Calls.due("none", Calls.of(() -> s.standardAt(0, 0, 0)), Calls.NONE);
@@ -157,7 +157,7 @@ public final class CountedEdgesTest {
         });
         Calls.test("22: letters 0 to the last one", () -> {
             for (int letters = 2; letters <= 3; letters++) {
-                Syzygium s = Calls.zero(Calls.ring(2, letters, 'g'));
+                Renewed s = Calls.zero(Calls.ring(2, letters, 'g'));
                 Calls.due("0", s.standardAt(0, letters, 0), 1);
                 Calls.due("the last one", s.standardAt(0, 1, letters - 1), 1);
                 for (int no : new int[] {Calls.LEAST, -1, letters, 4, Calls.MOST}) {
@@ -172,7 +172,7 @@ public final class CountedEdgesTest {
             int n = letters;
             Calls.test("23: powers 0 to 60, " + letters + " letters", () -> {
                 for (String list : COUNTED) {
-                    Syzygium s = Calls.ring(3, n, 'g');
+                    Renewed s = Calls.ring(3, n, 'g');
                     int ideal = Calls.ideal(s, list);
                     int[][] leads = Calls.leadsOf(s, ideal, n);
                     for (int power = 0; power <= 60; power++) {
@@ -187,7 +187,7 @@ public final class CountedEdgesTest {
             });
         }
         Calls.test("23: of 0 it is 1, of all 0", () -> {
-            Syzygium s = Calls.ring(3, 3, 'g');
+            Renewed s = Calls.ring(3, 3, 'g');
             Calls.ideal(s, "");
             Calls.ideal(s, "1 000");
             for (int power = 0; power <= 60; power++) {
@@ -196,7 +196,7 @@ public final class CountedEdgesTest {
             }
         });
         Calls.test("23: of the sixth powers up to the power 18", () -> {
-            Syzygium s = Calls.ring(3, 3, 'g');
+            Renewed s = Calls.ring(3, 3, 'g');
             int sixth = Calls.sixthPowers(s);
             for (int power = 0; power <= 60; power++) {
                 Calls.due("" + power, s.series(sixth, power),
@@ -204,7 +204,7 @@ public final class CountedEdgesTest {
             }
         });
         Calls.test("23: a power out of range", () -> {
-            Syzygium s = Calls.zero(new Syzygium());
+            Renewed s = Calls.zero(new Renewed());
             for (int no : new int[] {Calls.LEAST, -1, 61, 62, Calls.MOST}) {
                 Calls.due("" + no, Calls.of(() -> s.series(0, no)), Calls.ARGUMENT);
             }
@@ -213,7 +213,7 @@ public final class CountedEdgesTest {
 
     private static void values() {
         Calls.test("24: degrees 0 to 1000000, of 0", () -> {
-            Syzygium s = Calls.zero(Calls.ring(2, 3, 'g'));
+            Renewed s = Calls.zero(Calls.ring(2, 3, 'g'));
             Calls.due("0", s.polynomial(0, 0), 1);
             Calls.due("1", s.polynomial(0, 1), 3);
             Calls.due("999999", s.polynomial(0, 999999), 500000500000L);
@@ -221,11 +221,11 @@ public final class CountedEdgesTest {
             for (int no : new int[] {Calls.LEAST, -1, 1000001, Calls.MOST}) {
                 Calls.due("" + no, Calls.of(() -> s.polynomial(0, no)), Calls.ARGUMENT);
             }
-            Syzygium two = Calls.zero(Calls.ring(2, 2, 'g'));
+            Renewed two = Calls.zero(Calls.ring(2, 2, 'g'));
             Calls.due("two letters", two.polynomial(0, 0) + " " + two.polynomial(0, 1000000), "1 1000001");
         });
         Calls.test("24: of all, and of few standard words, it is 0", () -> {
-            Syzygium s = Calls.ring(2, 3, 'g');
+            Renewed s = Calls.ring(2, 3, 'g');
             int sixth = Calls.sixthPowers(s);
             int all = Calls.ideal(s, "1 000");
             for (int degree : new int[] {0, 1, 15, 16, 1000000}) {
@@ -234,7 +234,7 @@ public final class CountedEdgesTest {
             }
         });
         Calls.test("24: at other degrees it has its own values, below 0, too", () -> {
-            Syzygium s = Calls.ring(2, 3, 'g');
+            Renewed s = Calls.ring(2, 3, 'g');
             Calls.ideal(s, "1 300");
             s.join('*', 0, 0);
             Calls.due("0", s.polynomial(1, 0), -9);
@@ -247,7 +247,7 @@ public final class CountedEdgesTest {
         for (int letters = 2; letters <= 3; letters++) {
             int n = letters;
             Calls.test("24: how many standard words there are, for all degrees that are great enough, " + n, () -> {
-                Syzygium s = Calls.ring(5, n, 'g');
+                Renewed s = Calls.ring(5, n, 'g');
                 for (int ideal : countedOnes(s)) {
                     int[][] leads = Calls.leadsOf(s, ideal, n);
                     for (int degree : new int[] {18, 19, 20, 21, 22, 23, 40, 300}) {
@@ -269,14 +269,14 @@ public final class CountedEdgesTest {
                 {"2", "1 100", "1", "1"}, {"2", "1 220", "1", "4"}, {"2", "", "2", "1"},
                 {"3", "1 200; 1 110; 1 101; 1 020", "1", "2"}, {"3", "1 100, 1 000; 1 020, 1 001, 1 000", "1", "2"}};
             for (String[] d : due) {
-                Syzygium s = Calls.ring(7, Integer.parseInt(d[0]), 'g');
+                Renewed s = Calls.ring(7, Integer.parseInt(d[0]), 'g');
                 int ideal = Calls.ideal(s, d[1]);
                 Calls.due("dimension of " + d[1], s.dimension(ideal), d[2]);
                 Calls.due("multiplicity of " + d[1], s.multiplicity(ideal), d[3]);
             }
         });
         Calls.test("26: the most, 216 standard words", () -> {
-            Syzygium s = Calls.ring(7, 3, 'g');
+            Renewed s = Calls.ring(7, 3, 'g');
             Calls.due(s.multiplicity(Calls.sixthPowers(s)), 216);
         });
     }
@@ -285,7 +285,7 @@ public final class CountedEdgesTest {
         Calls.test("27: of all none, of 0 all points, of each prime", () -> {
             for (int prime : PRIMES) {
                 for (int letters = 2; letters <= 3; letters++) {
-                    Syzygium s = Calls.ring(prime, letters, 'd');
+                    Renewed s = Calls.ring(prime, letters, 'd');
                     Calls.due("all", s.roots(Calls.ideal(s, "1 000")), 0);
                     Calls.due("0", s.roots(Calls.ideal(s, "")), letters == 2 ? prime * prime : prime * prime * prime);
                     Calls.due("x", s.roots(Calls.ideal(s, "1 100")), letters == 2 ? prime : prime * prime);
@@ -295,11 +295,11 @@ public final class CountedEdgesTest {
             }
         });
         Calls.test("27: what is 0 at all points, though it is not 0", () -> {
-            Syzygium s = Calls.ring(3, 2, 'g');
+            Renewed s = Calls.ring(3, 2, 'g');
             Calls.due(s.roots(Calls.ideal(s, "1 300, -1 100; 1 030, -1 010")), 9);
         });
         Calls.test("27: numbers modulo the prime alone", () -> {
-            Syzygium s = Calls.ring(7, 2, 'g');
+            Renewed s = Calls.ring(7, 2, 'g');
             Calls.due("no square", s.roots(Calls.ideal(s, "1 200, 1 000")), 0);
             Calls.due("a square", s.roots(Calls.ideal(s, "1 200, -2 000")), 14);
         });
@@ -307,7 +307,7 @@ public final class CountedEdgesTest {
 
     private static void tables() {
         Calls.test("28: the places i are 0 to the letters, j is 0 to 18: of the sixth powers", () -> {
-            Syzygium s = Calls.ring(2, 3, 'g');
+            Renewed s = Calls.ring(2, 3, 'g');
             int sixth = Calls.sixthPowers(s);
             for (int i = 0; i <= 3; i++) {
                 for (int j = 0; j <= 18; j++) {
@@ -321,7 +321,7 @@ public final class CountedEdgesTest {
         Calls.test("28: i or j out of range", () -> {
             for (int letters = 2; letters <= 3; letters++) {
                 int last = letters;
-                Syzygium s = Calls.zero(Calls.ring(2, letters, 'g'));
+                Renewed s = Calls.zero(Calls.ring(2, letters, 'g'));
                 Calls.due("the last places", s.table(0, last, 18), 0);
                 for (int no : new int[] {Calls.LEAST, -1, letters + 1, 4, 5, Calls.MOST}) {
                     Calls.due("i " + no, Calls.of(() -> s.table(0, no, 0)), Calls.ARGUMENT);
@@ -335,7 +335,7 @@ public final class CountedEdgesTest {
         for (int letters = 2; letters <= 3; letters++) {
             int n = letters;
             Calls.test("28: of 0 there is 1 at 0, 0 alone, of all nothing, " + letters + " letters", () -> {
-                Syzygium s = Calls.ring(5, n, 'd');
+                Renewed s = Calls.ring(5, n, 'd');
                 Calls.ideal(s, "");
                 Calls.ideal(s, "1 000");
                 for (int i = 0; i <= n; i++) {
@@ -347,7 +347,7 @@ public final class CountedEdgesTest {
             });
         }
         Calls.test("28: all letters, the most at a place 3 of what is not words", () -> {
-            Syzygium s = Calls.ring(7, 3, 'd');
+            Renewed s = Calls.ring(7, 3, 'd');
             Calls.ideal(s, "1 100, 3 010; 2 010, 1 001; 5 001");
             Calls.due(s.table(0, 0, 0) + " " + s.table(0, 1, 1) + " " + s.table(0, 2, 2) + " " + s.table(0, 3, 3), "1 3 3 1");
         });
@@ -356,7 +356,7 @@ public final class CountedEdgesTest {
     private static void depths() {
         Calls.test("29, 30, 31: of 0 and of all", () -> {
             for (int letters = 2; letters <= 3; letters++) {
-                Syzygium s = Calls.ring(5, letters, 'd');
+                Renewed s = Calls.ring(5, letters, 'd');
                 Calls.ideal(s, "");
                 Calls.ideal(s, "1 000");
                 Calls.due("0", s.length(0) + " " + s.regularity(0) + " " + s.depth(0), "0 0 " + letters);
@@ -368,7 +368,7 @@ public final class CountedEdgesTest {
                 {"3", "1 001", "1 0 2"}, {"3", "1 200; 1 002", "2 2 1"}, {"3", "1 100; 1 010; 1 001", "3 0 0"},
                 {"3", "1 200; 1 110; 1 101", "3 1 0"}, {"3", "1 400, 1 013; 1 040", "2 6 1"}};
             for (String[] d : due) {
-                Syzygium s = Calls.ring(3, Integer.parseInt(d[0]), 'g');
+                Renewed s = Calls.ring(3, Integer.parseInt(d[0]), 'g');
                 Calls.ideal(s, d[1]);
                 Calls.due(d[1], s.length(0) + " " + s.regularity(0) + " " + s.depth(0), d[2]);
             }
@@ -377,7 +377,7 @@ public final class CountedEdgesTest {
 
     private static void ofWords() {
         Calls.test("32: of 0 and of all; by its basis, not by what generates it", () -> {
-            Syzygium s = Calls.ring(5, 3, 'g');
+            Renewed s = Calls.ring(5, 3, 'g');
             Calls.due("0", s.isOfWords(Calls.ideal(s, "")), true);
             Calls.due("all", s.isOfWords(Calls.ideal(s, "1 000")), true);
             Calls.due("sums", s.isOfWords(Calls.ideal(s, "1 100, 1 010; 1 100, 2 010")), true);
@@ -424,7 +424,7 @@ public final class CountedEdgesTest {
         return true;
     }
 
-    private static String componentsTold(Syzygium s, int ideal, int letters) {
+    private static String componentsTold(Renewed s, int ideal, int letters) {
         StringBuilder b = new StringBuilder();
         for (int i = 0; i < s.components(ideal); i++) {
             for (int letter = 0; letter < letters; letter++) {
@@ -438,7 +438,7 @@ public final class CountedEdgesTest {
     private static void components() {
         Calls.test("33, 34: one without letters for 0, none for all", () -> {
             for (int letters = 2; letters <= 3; letters++) {
-                Syzygium s = Calls.ring(3, letters, 'g');
+                Renewed s = Calls.ring(3, letters, 'g');
                 Calls.ideal(s, "");
                 Calls.ideal(s, "1 000");
                 Calls.due("0", s.components(0), 1);
@@ -453,26 +453,26 @@ public final class CountedEdgesTest {
         });
         Calls.test("33, 34: none can be left out, ordered by the powers of x, then y, then z", () -> {
             for (String list : WORDS) {
-                Syzygium s = Calls.ring(2, 3, 'g');
+                Renewed s = Calls.ring(2, 3, 'g');
                 Calls.ideal(s, list);
                 Calls.due(list, componentsTold(s, 0, 3), componentsBy(Calls.leadsOf(s, 0, 3), 3));
             }
             for (String list : new String[] {"", "1 100", "1 400; 1 310; 1 220; 1 130", "1 220; 1 130", "1 400; 1 040"}) {
-                Syzygium s = Calls.ring(2, 2, 'g');
+                Renewed s = Calls.ring(2, 2, 'g');
                 Calls.ideal(s, list);
                 Calls.due(list, componentsTold(s, 0, 2), componentsBy(Calls.leadsOf(s, 0, 2), 2));
             }
-            Syzygium s = Calls.ring(2, 3, 'd');
+            Renewed s = Calls.ring(2, 3, 'd');
             int twelve = Calls.twelveWords(s);
             Calls.due("12 words", componentsTold(s, twelve, 3), componentsBy(Calls.leadsOf(s, twelve, 3), 3));
         });
         Calls.test("34: a power of 6, the greatest one", () -> {
-            Syzygium s = Calls.ring(2, 3, 'g');
+            Renewed s = Calls.ring(2, 3, 'g');
             int sixth = Calls.sixthPowers(s);
             Calls.due(componentsTold(s, sixth, 3), "666 ");
         });
         Calls.test("34: index 0 to the last one, and not so many", () -> {
-            Syzygium s = Calls.ring(2, 3, 'g');
+            Renewed s = Calls.ring(2, 3, 'g');
             Calls.ideal(s, "1 111");
             Calls.due("0", s.componentAt(0, 0, 2), 1);
             Calls.due("2", s.componentAt(0, 2, 0), 1);
@@ -482,7 +482,7 @@ public final class CountedEdgesTest {
         });
         Calls.test("34: letters 0 to the last one", () -> {
             for (int letters = 2; letters <= 3; letters++) {
-                Syzygium s = Calls.ring(2, letters, 'g');
+                Renewed s = Calls.ring(2, letters, 'g');
                 Calls.ideal(s, letters == 2 ? "1 300; 1 020" : "1 300; 1 020; 1 002");
                 Calls.due("0", s.componentAt(0, 0, 0), 3);
                 Calls.due("the last one", s.componentAt(0, 0, letters - 1), 2);
@@ -495,7 +495,7 @@ public final class CountedEdgesTest {
 
     private static void primes() {
         Calls.test("35, 36: the ideal of 0 has the empty one, that of all none", () -> {
-            Syzygium s = Calls.ring(3, 3, 'g');
+            Renewed s = Calls.ring(3, 3, 'g');
             Calls.ideal(s, "");
             Calls.ideal(s, "1 000");
             Calls.due("0", s.primes(0) + " " + s.primeAt(0, 0), "1 0");
@@ -509,7 +509,7 @@ public final class CountedEdgesTest {
                 {"1 400; 1 040; 1 004", "7 "}, {"1 210; 1 021; 1 102", "3 5 6 7 "}, {"1 110; 1 011; 1 101", "3 5 6 "},
                 {"1 220; 1 310; 1 130", "1 2 3 "}, {"1 200; 1 110; 1 101", "1 7 "}};
             for (String[] d : due) {
-                Syzygium s = Calls.ring(2, 3, 'd');
+                Renewed s = Calls.ring(2, 3, 'd');
                 Calls.ideal(s, d[0]);
                 StringBuilder b = new StringBuilder();
                 for (int i = 0; i < s.primes(0); i++) {
@@ -525,7 +525,7 @@ public final class CountedEdgesTest {
             for (int x = 0; x <= 6; x += 2) {
                 for (int y = 0; y <= 6; y += 2) {
                     for (int z = 0; z <= 6; z += 2) {
-                        Syzygium s = Calls.ring(2, 3, 'g');
+                        Renewed s = Calls.ring(2, 3, 'g');
                         int sum = Calls.ideal(s, "");
                         int due = 0;
                         int[] powers = {x, y, z};
@@ -549,7 +549,7 @@ public final class CountedEdgesTest {
 
     private static void radicals() {
         Calls.test("37: of 0 and of all", () -> {
-            Syzygium s = Calls.ring(3, 2, 'g');
+            Renewed s = Calls.ring(3, 2, 'g');
             Calls.ideal(s, "");
             Calls.ideal(s, "1 000");
             Calls.due("0", s.radical(0), 2);
@@ -561,17 +561,17 @@ public final class CountedEdgesTest {
             String[][] due = {{"1 400", "100"}, {"1 220", "110"}, {"1 211", "111"}, {"1 400; 1 310", "100"},
                 {"1 210; 1 021; 1 102", "011 101 110"}, {"1 004; 1 130; 1 211", "001 110"}, {"1 110; 1 001", "001 110"}};
             for (String[] d : due) {
-                Syzygium s = Calls.ring(2, 3, 'g');
+                Renewed s = Calls.ring(2, 3, 'g');
                 Calls.ideal(s, d[0]);
                 Calls.due(d[0], Calls.leads(s, s.radical(0), 3), d[1]);
                 Calls.due("its own", s.isSame(s.radical(1), 1), true);
             }
-            Syzygium s = Calls.ring(2, 3, 'g');
+            Renewed s = Calls.ring(2, 3, 'g');
             Calls.due("sixth powers", Calls.leads(s, s.radical(Calls.sixthPowers(s)), 3), "001 010 100");
             Calls.due("the number", s.ideals(), 9);
         });
         Calls.test("37: the number 11, the last one", () -> {
-            Syzygium s = Calls.ring(2, 3, 'g');
+            Renewed s = Calls.ring(2, 3, 'g');
             for (int i = 0; i < 11; i++) {
                 Calls.ideal(s, "1 200");
             }
@@ -582,9 +582,9 @@ public final class CountedEdgesTest {
 
     private static void shares() {
         Calls.test("46, 47: none", () -> {
-            Calls.due(Calls.of(() -> new Syzygium().gradedShare()), Calls.NUMBERS);
-            Calls.due(Calls.of(() -> new Syzygium().meanSize()), Calls.NUMBERS);
-            Syzygium s = Calls.zero(new Syzygium());
+            Calls.due(Calls.of(() -> new Renewed().gradedShare()), Calls.NUMBERS);
+            Calls.due(Calls.of(() -> new Renewed().meanSize()), Calls.NUMBERS);
+            Renewed s = Calls.zero(new Renewed());
             s.begin(2, 2, 'g');
             Calls.due("gone", Calls.of(s::gradedShare), Calls.NUMBERS);
             Calls.due("gone", Calls.of(s::meanSize), Calls.NUMBERS);
@@ -592,7 +592,7 @@ public final class CountedEdgesTest {
         Calls.test("46: both converted to float, of 1 to 12 ideals", () -> {
             for (int number = 1; number <= 12; number++) {
                 for (int graded = 0; graded <= number; graded++) {
-                    Syzygium s = Calls.ring(3, 2, 'g');
+                    Renewed s = Calls.ring(3, 2, 'g');
                     for (int i = 0; i < number; i++) {
                         Calls.ideal(s, i < graded ? "1 200, 1 110" : "1 200, 1 010");
                     }
@@ -601,13 +601,13 @@ public final class CountedEdgesTest {
             }
         });
         Calls.test("46: of 0 and of all they are graded", () -> {
-            Syzygium s = Calls.zero(new Syzygium());
+            Renewed s = Calls.zero(new Renewed());
             Calls.due("0", s.gradedShare(), 1.0f);
             Calls.ideal(s, "1 000");
             Calls.due("all", s.gradedShare(), 1.0f);
         });
         Calls.test("47: both converted to double: 0, 12, and what is no whole number", () -> {
-            Syzygium s = Calls.zero(Calls.ring(3, 3, 'g'));
+            Renewed s = Calls.zero(Calls.ring(3, 3, 'g'));
             Calls.due("0", s.meanSize(), 0.0);
             s.begin(3, 3, 'g');
             Calls.twelveWords(s);
@@ -621,7 +621,7 @@ public final class CountedEdgesTest {
 
     private static void sums() {
         Calls.test("46, 47, 48: of the ideals that there are now, and of their bases alone", () -> {
-            Syzygium s = Calls.ring(5, 3, 'g');
+            Renewed s = Calls.ring(5, 3, 'g');
             for (int i = 0; i < 12; i++) {
                 Calls.ideal(s, "1 400; 1 040, 1 100; 1 004; 1 111");
             }
@@ -634,7 +634,7 @@ public final class CountedEdgesTest {
             Calls.due("and 0", s.gradedShare() + " " + s.meanSize() + " " + s.checksum(), "1.0 0.5 " + (31 * 7 + 12));
         });
         Calls.test("48: 7 at first, and of ideals without polynomials", () -> {
-            Syzygium s = new Syzygium();
+            Renewed s = new Renewed();
             Calls.due("none", s.checksum(), 7);
             Calls.fill(s);
             Calls.due("12 of 0", s.checksum(), 7);
@@ -643,7 +643,7 @@ public final class CountedEdgesTest {
         });
         Calls.test("48: for each ideal, polynomial and word, from the leading one on, wrapping around", () -> {
             for (char order : new char[] {'g', 'd'}) {
-                Syzygium s = Calls.ring(7, 3, order);
+                Renewed s = Calls.ring(7, 3, order);
                 Calls.ideal(s, "3 200, 1 110, 2 001; 5 011, 1 010; 6 003, 4 001");
                 Calls.ideal(s, "1 000");
                 Calls.twelveWords(s);
@@ -670,7 +670,7 @@ public final class CountedEdgesTest {
         Calls.test("49: without ideals, with those of 0 and of all, with 12", () -> {
             for (int prime : PRIMES) {
                 for (int letters = 2; letters <= 3; letters++) {
-                    Syzygium s = Calls.ring(prime, letters, 'd');
+                    Renewed s = Calls.ring(prime, letters, 'd');
                     Calls.due("none", s.isSound(), true);
                     Calls.ideal(s, "");
                     Calls.due("0", s.isSound(), true);
@@ -684,7 +684,7 @@ public final class CountedEdgesTest {
             }
         });
         Calls.test("49: with bases of 4, of more, of 12, and of the degree 6", () -> {
-            Syzygium s = Calls.ring(2, 3, 'g');
+            Renewed s = Calls.ring(2, 3, 'g');
             Calls.twelveWords(s);
             Calls.ideal(s, "1 210; 1 021, 1 300; 1 003");
             Calls.due("12 words", s.isSound(), true);

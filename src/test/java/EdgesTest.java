@@ -34,7 +34,7 @@ public final class EdgesTest {
 
     private static void newObject() {
         Calls.test("1: the ring of x and y", () -> {
-            Syzygium s = new Syzygium();
+            Renewed s = new Renewed();
             Calls.due("x", s.term(1, 1, 0, 0), 1);
             Calls.due("y", s.term(1, 0, 1, 0), 2);
             Calls.due("z", Calls.of(() -> s.term(1, 0, 0, 1)), Calls.ARGUMENT);
@@ -44,34 +44,47 @@ public final class EdgesTest {
             Calls.due("words of the degree 1", s.standard(0, 1), 2);
         });
         Calls.test("1: modulo 2", () -> {
-            Syzygium s = new Syzygium();
+            Renewed s = new Renewed();
             Calls.due(Calls.polynomial(s, 2), "xy");
             Calls.due(s.term(3, 1, 1, 0), 1);
             Calls.due(s.term(-1, 1, 1, 0), 0);
             s.ideal();
             Calls.due("4 points", s.roots(0), 4);
         });
-        Calls.test("1: in the order g", () -> Calls.due(firstWords(Calls.zero(new Syzygium()), 2, 10), rising(2, 'g', 10)));
+        Calls.test("1: in the order g", () -> Calls.due(firstWords(Calls.zero(new Renewed()), 2, 10), rising(2, 'g', 10)));
+        Calls.test("1: all that a new object answers is as after begin with 2, 2 and g", () -> {
+            String[] lists = {"1 200, 1 010", "1 110, 1 100; 1 030", "1 300; 1 120", "1 100; 1 010", ""};
+            for (int pair = 0; pair < 25; pair++) {
+                String one = lists[pair / 5];
+                String other = lists[pair % 5];
+                Calls.due(one + " with " + other, made(new Renewed(), one, other), made(Calls.ring(2, 2, 'g'), one, other));
+            }
+            String no = " " + Calls.REFUSED + " ";
+            Calls.due("(x^2 + y) and (x, y^3)", made(new Renewed(), lists[0], lists[1]), "2 3 4 5 6 7 8 " + Calls.ARGUMENT
+                + " | 1.200 1.010" + no + "2" + no + "| 1.100; 1.030 2 1 1 | 1.010; 1.100 0 1 1 "
+                + "| 1.300 1.110; 1.230 1.040" + no + "2" + no + "| 1.300 1.110; 1.220 1.030" + no + "2" + no
+                + "| 1.200 1.010" + no + "2" + no + "| 1.200 1.010" + no + "2" + no + "|  0 4 1 |  0 4 1 false 1 true");
+        });
         Calls.test("1: without ideals", () -> {
-            Syzygium s = new Syzygium();
+            Renewed s = new Renewed();
             Calls.due("ideals", s.ideals(), 0);
             Calls.due("the first one", Calls.of(() -> s.size(0)), Calls.INDEX);
             Calls.due("sum", s.checksum(), 7L);
         });
         Calls.test("1: without faces", () -> {
-            Syzygium s = new Syzygium();
+            Renewed s = new Renewed();
             Calls.due("the empty one", s.faces(-1), 0);
             Calls.due("a facet", Calls.of(() -> s.facetAt(0)), Calls.NONE);
             Calls.due("all", s.clear(), 0);
         });
         Calls.test("1: the polynomial is 0 and the list is empty", () -> {
-            Syzygium s = new Syzygium();
+            Renewed s = new Renewed();
             Calls.due("polynomial", s.wipe(), 0);
             Calls.due("list", s.dropList(), 0);
         });
         Calls.test("1: objects have nothing in common", () -> {
-            Syzygium s = new Syzygium();
-            Syzygium t = Calls.ring(7, 3, 'd');
+            Renewed s = new Renewed();
+            Renewed t = Calls.ring(7, 3, 'd');
             Calls.ideal(t, "3 101, 1 000");
             t.put(63);
             Calls.poly(t, "1 001");
@@ -82,8 +95,29 @@ public final class EdgesTest {
         });
     }
 
+    /** Two ideals, all that can be made of them, and some of what can be told of all these. */
+    private static String made(Renewed s, String one, String other) {
+        StringBuilder b = new StringBuilder();
+        Calls.ideal(s, one);
+        Calls.ideal(s, other);
+        for (char kind : KINDS) {
+            b.append(Calls.of(() -> s.join(kind, 0, 1))).append(' ');
+        }
+        for (int letter = 0; letter < 3; letter++) {
+            int l = letter;
+            b.append(Calls.of(() -> s.without(0, l))).append(' ');
+        }
+        for (int i = 0; i < s.ideals(); i++) {
+            int ideal = i;
+            b.append("| ").append(Calls.basis(s, i, 2, 'g')).append(' ').append(Calls.of(() -> s.regularity(ideal)));
+            b.append(' ').append(s.roots(i)).append(' ').append(Calls.of(() -> s.components(ideal))).append(' ');
+        }
+        Calls.poly(s, "1 010");
+        return b.append(s.inRadical(0)).append(' ').append(s.rest(1)).append(' ').append(s.isSound()).toString();
+    }
+
     /** The first standard words of the ideal 0, by rising words. */
-    private static String firstWords(Syzygium s, int letters, int number) {
+    private static String firstWords(Renewed s, int letters, int number) {
         StringBuilder b = new StringBuilder();
         for (int i = 0; i < number; i++) {
             for (int letter = 0; letter < letters; letter++) {
@@ -112,7 +146,7 @@ public final class EdgesTest {
                 Calls.test("terms: the leading word is the greatest one, " + letters + " " + order, () -> {
                     List<int[]> words = Calls.words(n, 4, order);
                     for (int i = 0; i + 1 < words.size(); i++) {
-                        Syzygium s = Calls.ring(3, n, order);
+                        Renewed s = Calls.ring(3, n, order);
                         int[] a = words.get(i);
                         int[] b = words.get(i + 1);
                         s.term(1, b[0], b[1], b[2]);
@@ -130,7 +164,7 @@ public final class EdgesTest {
         for (int prime : PRIMES) {
             Calls.test("2: prime " + prime, () -> {
                 for (int letters = 2; letters <= 3; letters++) {
-                    Syzygium s = Calls.ring(prime, letters, 'g');
+                    Renewed s = Calls.ring(prime, letters, 'g');
                     Calls.poly(s, "-1 100, 1 000");
                     Calls.due(Calls.polynomial(s, prime),
                         (letters == 2 ? "xy " : "xyz ") + (prime - 1) + ".100 1.000");
@@ -140,13 +174,13 @@ public final class EdgesTest {
             });
         }
         Calls.test("2: other primes, and what is none", () -> {
-            Syzygium s = new Syzygium();
+            Renewed s = new Renewed();
             for (int no : new int[] {Calls.LEAST, -7, -5, -3, -2, -1, 0, 1, 4, 6, 8, 9, 10, 11, 13, 14, Calls.MOST}) {
                 Calls.due("" + no, Calls.of(() -> s.begin(no, 2, 'g')), Calls.ARGUMENT);
             }
         });
         Calls.test("2: letters 2 or 3", () -> {
-            Syzygium s = new Syzygium();
+            Renewed s = new Renewed();
             Calls.due("2", s.begin(3, 2, 'd'), 0);
             Calls.due("no z", Calls.of(() -> s.term(1, 0, 0, 1)), Calls.ARGUMENT);
             Calls.due("3", s.begin(3, 3, 'd'), 0);
@@ -156,13 +190,13 @@ public final class EdgesTest {
             }
         });
         Calls.test("2: order g or d", () -> {
-            Syzygium s = new Syzygium();
+            Renewed s = new Renewed();
             for (int no : new int[] {0, 1, 'c', 'e', 'f', 'h', 'G', 'D', 'l', 'p', 255, 256 + 'g', 65535}) {
                 Calls.due("" + no, Calls.of(() -> s.begin(3, 3, (char) no)), Calls.ARGUMENT);
             }
         });
         Calls.test("2: returns how many ideals there were, none, some and 12", () -> {
-            Syzygium s = new Syzygium();
+            Renewed s = new Renewed();
             Calls.due("none", s.begin(2, 2, 'g'), 0);
             s.ideal();
             Calls.due("one", s.begin(2, 2, 'g'), 1);
@@ -171,28 +205,28 @@ public final class EdgesTest {
             Calls.due("none again", s.begin(2, 2, 'g'), 0);
         });
         Calls.test("2: ideals are gone", () -> {
-            Syzygium s = Calls.ring(5, 3, 'g');
+            Renewed s = Calls.ring(5, 3, 'g');
             Calls.ideal(s, "1 100");
             s.begin(5, 3, 'g');
             Calls.due(s.ideals(), 0);
             Calls.due(Calls.of(() -> s.size(0)), Calls.INDEX);
         });
         Calls.test("2: the list is gone", () -> {
-            Syzygium s = Calls.ring(5, 3, 'g');
+            Renewed s = Calls.ring(5, 3, 'g');
             Calls.list(s, "1 100; 1 010; 1 001; 1 111");
             s.begin(5, 3, 'g');
             Calls.due(s.dropList(), 0);
             Calls.due(s.size(s.ideal()), 0);
         });
         Calls.test("2: the polynomial is gone", () -> {
-            Syzygium s = Calls.ring(5, 3, 'g');
+            Renewed s = Calls.ring(5, 3, 'g');
             Calls.poly(s, "1 100, 2 010");
             s.begin(5, 3, 'g');
             Calls.due(Calls.of(s::push), Calls.REFUSED);
             Calls.due(s.wipe(), 0);
         });
         Calls.test("2: faces stay", () -> {
-            Syzygium s = new Syzygium();
+            Renewed s = new Renewed();
             s.begin(3, 2, 'g');
             Calls.due("none", s.faces(-1), 0);
             s.put(5);
@@ -202,7 +236,7 @@ public final class EdgesTest {
             Calls.due(s.clear(), 5);
         });
         Calls.test("2: another ring has its own tables and words", () -> {
-            Syzygium s = Calls.ring(5, 3, 'g');
+            Renewed s = Calls.ring(5, 3, 'g');
             Calls.ideal(s, "1 200; 1 020; 1 002");
             Calls.due("before", s.table(0, 3, 6) + " " + s.regularity(0) + " " + s.depth(0), "1 3 0");
             s.begin(5, 2, 'd');
@@ -214,7 +248,7 @@ public final class EdgesTest {
 
     private static void terms() {
         Calls.test("3: a power from 0 to 4", () -> {
-            Syzygium s = Calls.ring(3, 3, 'g');
+            Renewed s = Calls.ring(3, 3, 'g');
             Calls.due("0", s.term(1, 0, 0, 0), 1);
             Calls.due("x to 4", s.term(1, 4, 0, 0), 2);
             Calls.due("y to 4", s.term(1, 0, 4, 0), 3);
@@ -229,7 +263,7 @@ public final class EdgesTest {
             for (int x = 0; x <= 4; x++) {
                 for (int y = 0; y <= 4; y++) {
                     for (int z = 0; z <= 4; z++) {
-                        Syzygium s = Calls.ring(3, 3, 'd');
+                        Renewed s = Calls.ring(3, 3, 'd');
                         int a = x;
                         int b = y;
                         int c = z;
@@ -240,7 +274,7 @@ public final class EdgesTest {
             }
         });
         Calls.test("3: powers below 0 are not made good by others, nor is a sum that wraps around", () -> {
-            Syzygium s = Calls.ring(3, 3, 'd');
+            Renewed s = Calls.ring(3, 3, 'd');
             int[][] no = {{-1, 5, 0}, {4, -1, 1}, {-1, 1, 1}, {1, 1, -1}, {Calls.MOST, Calls.MOST, 2},
                 {Calls.LEAST, Calls.LEAST, 0}, {Calls.MOST, 1, 0}, {Calls.LEAST, 1, Calls.MOST}};
             for (int[] w : no) {
@@ -249,7 +283,7 @@ public final class EdgesTest {
             Calls.due("nothing has come", s.wipe(), 0);
         });
         Calls.test("3: a power of a letter that there is not", () -> {
-            Syzygium s = Calls.ring(3, 2, 'd');
+            Renewed s = Calls.ring(3, 2, 'd');
             Calls.due("z", Calls.of(() -> s.term(1, 0, 0, 1)), Calls.ARGUMENT);
             Calls.due("xz", Calls.of(() -> s.term(1, 1, 0, 1)), Calls.ARGUMENT);
             Calls.due("z to 4", Calls.of(() -> s.term(1, 0, 0, 4)), Calls.ARGUMENT);
@@ -257,7 +291,7 @@ public final class EdgesTest {
         });
         Calls.test("3: returns how many words, up to all of them", () -> {
             for (int letters = 2; letters <= 3; letters++) {
-                Syzygium s = Calls.ring(7, letters, 'g');
+                Renewed s = Calls.ring(7, letters, 'g');
                 int number = 0;
                 for (int[] w : Calls.words(letters, 4, 'd')) {
                     number++;
@@ -271,7 +305,7 @@ public final class EdgesTest {
         });
         Calls.test("3: a word that goes out is no word of the polynomial", () -> {
             for (int prime : PRIMES) {
-                Syzygium s = Calls.ring(prime, 3, 'g');
+                Renewed s = Calls.ring(prime, 3, 'g');
                 Calls.due("first", s.term(1, 1, 1, 1), 1);
                 Calls.due("others", s.term(1, 0, 0, 0), 2);
                 for (int k = 2; k < prime; k++) {
@@ -283,7 +317,7 @@ public final class EdgesTest {
             }
         });
         Calls.test("4: how many words it had: none, some, all", () -> {
-            Syzygium s = Calls.ring(7, 3, 'g');
+            Renewed s = Calls.ring(7, 3, 'g');
             Calls.due("none", s.wipe(), 0);
             s.term(1, 0, 0, 0);
             Calls.due("one", s.wipe(), 1);
@@ -302,7 +336,7 @@ public final class EdgesTest {
         for (int prime : PRIMES) {
             Calls.test("3: any number, taken modulo " + prime, () -> {
                 for (int number : numbers) {
-                    Syzygium s = Calls.ring(prime, 2, 'g');
+                    Renewed s = Calls.ring(prime, 2, 'g');
                     int due = (int) (((long) number % prime + prime) % prime);
                     Calls.due("words with " + number, s.term(number, 2, 1, 0), due == 0 ? 0 : 1);
                     Calls.due("" + number, Calls.polynomial(s, prime), "xy" + (due == 0 ? "" : " " + due + ".210"));
@@ -310,7 +344,7 @@ public final class EdgesTest {
             });
             Calls.test("3: numbers of a word are added modulo " + prime, () -> {
                 for (int one : numbers) {
-                    Syzygium s = Calls.ring(prime, 3, 'd');
+                    Renewed s = Calls.ring(prime, 3, 'd');
                     s.term(one, 0, 1, 1);
                     int words = s.term(Calls.MOST, 0, 1, 1);
                     int due = (int) ((((long) one + Calls.MOST) % prime + prime) % prime);
@@ -326,7 +360,7 @@ public final class EdgesTest {
 
     private static void lists() {
         Calls.test("5: the list grows to 4, and not to 5", () -> {
-            Syzygium s = Calls.ring(5, 3, 'g');
+            Renewed s = Calls.ring(5, 3, 'g');
             for (int i = 1; i <= 4; i++) {
                 s.term(i, i, 0, 0);
                 Calls.due(s.push(), i);
@@ -337,14 +371,14 @@ public final class EdgesTest {
             Calls.due("now it goes", s.push(), 1);
         });
         Calls.test("5: the polynomial is 0 then", () -> {
-            Syzygium s = Calls.ring(5, 3, 'g');
+            Renewed s = Calls.ring(5, 3, 'g');
             Calls.poly(s, "1 100, 2 010, 3 001, 4 000");
             s.push();
             Calls.due(Calls.polynomial(s, 5), "xyz");
             Calls.due(s.wipe(), 0);
         });
         Calls.test("5: it is 0: never touched, wiped, gone out, pushed, or its rest", () -> {
-            Syzygium s = Calls.ring(5, 3, 'g');
+            Renewed s = Calls.ring(5, 3, 'g');
             Calls.due("untouched", Calls.of(s::push), Calls.REFUSED);
             s.term(1, 1, 0, 0);
             s.wipe();
@@ -360,7 +394,7 @@ public final class EdgesTest {
             Calls.due("its rest", Calls.of(s::push), Calls.REFUSED);
         });
         Calls.test("6: how many it had: none, one, 4", () -> {
-            Syzygium s = new Syzygium();
+            Renewed s = new Renewed();
             Calls.due("none", s.dropList(), 0);
             Calls.list(s, "1 100");
             Calls.due("one", s.dropList(), 1);
@@ -370,7 +404,7 @@ public final class EdgesTest {
             Calls.due("nor in the ideal", s.size(s.ideal()), 0);
         });
         Calls.test("6: the polynomial and the ideals stay", () -> {
-            Syzygium s = Calls.ring(3, 2, 'g');
+            Renewed s = Calls.ring(3, 2, 'g');
             Calls.ideal(s, "1 100");
             Calls.list(s, "1 010; 1 110");
             Calls.poly(s, "2 110, 1 000");
@@ -383,7 +417,7 @@ public final class EdgesTest {
     private static void generated() {
         Calls.test("7: the list, perhaps empty: that of 0, which has no polynomials", () -> {
             for (int prime : PRIMES) {
-                Syzygium s = Calls.ring(prime, 3, 'd');
+                Renewed s = Calls.ring(prime, 3, 'd');
                 Calls.due("number", s.ideal(), 0);
                 Calls.due("size", s.size(0), 0);
                 Calls.due("words", s.standard(0, 40), 861);
@@ -391,17 +425,17 @@ public final class EdgesTest {
         });
         Calls.test("7: the ideal of all has 1 alone", () -> {
             for (String all : new String[] {"3 000", "1 100; 1 100, 1 000", "1 110, 1 000; 1 100", "2 000; 1 400; 1 004"}) {
-                Syzygium s = Calls.ring(5, 3, 'g');
+                Renewed s = Calls.ring(5, 3, 'g');
                 Calls.due(all, Calls.basis(s, Calls.ideal(s, all), 3, 'g'), "1.000");
             }
         });
         Calls.test("7: each of 4 polynomials counts", () -> {
-            Syzygium s = Calls.ring(5, 3, 'g');
+            Renewed s = Calls.ring(5, 3, 'g');
             Calls.due(Calls.leads(s, Calls.ideal(s, "1 400; 1 040; 1 004; 1 111"), 3), "111 004 040 400");
             Calls.due("one alone", Calls.leads(s, Calls.ideal(s, "4 013"), 3), "013");
         });
         Calls.test("7: the list is empty then, the polynomial stays", () -> {
-            Syzygium s = Calls.ring(3, 2, 'g');
+            Renewed s = Calls.ring(3, 2, 'g');
             Calls.list(s, "1 010; 1 110");
             Calls.poly(s, "2 110, 1 000");
             s.ideal();
@@ -409,7 +443,7 @@ public final class EdgesTest {
             Calls.due("polynomial", Calls.polynomial(s, 3), "xy 2.110 1.000");
         });
         Calls.test("7: returns its number, 0 to 11; 8: how many there are, 0 to 12", () -> {
-            Syzygium s = new Syzygium();
+            Renewed s = new Renewed();
             for (int i = 0; i < 12; i++) {
                 Calls.due("ideals", s.ideals(), i);
                 Calls.due("number", Calls.ideal(s, i % 2 == 0 ? "1 100" : ""), i);
@@ -423,7 +457,7 @@ public final class EdgesTest {
         });
         for (String kind : new String[] {"+", "*", "&", ":", "~", "w", "r", "i"}) {
             Calls.test("ideals: at most 12, numbered from 0: " + kind + " makes the number 11, and none beyond", () -> {
-                Syzygium s = Calls.ring(3, 3, 'g');
+                Renewed s = Calls.ring(3, 3, 'g');
                 for (int i = 0; i < 11; i++) {
                     Calls.ideal(s, "1 101");
                 }
@@ -437,7 +471,7 @@ public final class EdgesTest {
             });
         }
         Calls.test("ideals: no word but the leading one is divided by a leading word, with the number 1 there", () -> {
-            Syzygium s = Calls.ring(7, 3, 'g');
+            Renewed s = Calls.ring(7, 3, 'g');
             Calls.ideal(s, "3 200, 1 110, 2 001; 5 110, 1 010; 6 010, 4 001");
             for (int i = 0; i < s.size(0); i++) {
                 Calls.due("number", s.numberOf(0, i, s.lead(0, i, 0), s.lead(0, i, 1), s.lead(0, i, 2)), 1);
@@ -454,14 +488,14 @@ public final class EdgesTest {
             int letters = Integer.parseInt(head[1]);
             char order = head[2].charAt(0);
             Calls.test("ideals: more than 12 polynomials, or a degree of more than 6, is refused: " + line, () -> {
-                Syzygium s = Calls.ring(Integer.parseInt(head[0]), letters, order);
+                Renewed s = Calls.ring(Integer.parseInt(head[0]), letters, order);
                 Calls.due(made(s, p[1].trim(), p[2], p[3], letters, order), p[5].trim());
                 Calls.due("list", s.dropList(), 0);
             });
         }
     }
 
-    private static String made(Syzygium s, String kind, String one, String other, int letters, char order) {
+    private static String made(Renewed s, String kind, String one, String other, int letters, char order) {
         Object made = Calls.of(() -> {
             Calls.ideal(s, one);
             if (kind.equals("ideal")) {
@@ -480,13 +514,13 @@ public final class EdgesTest {
 
     private static void basesLookedAt() {
         Calls.test("9: sizes of 0, 1 and 12", () -> {
-            Syzygium s = Calls.ring(2, 3, 'g');
+            Renewed s = Calls.ring(2, 3, 'g');
             Calls.due("12", s.size(Calls.twelveWords(s)), 12);
             Calls.due("0", s.size(Calls.ideal(s, "")), 0);
             Calls.due("1", s.size(Calls.ideal(s, "1 000")), 1);
         });
         Calls.test("10: places of a basis of 12, of 1 and of 0", () -> {
-            Syzygium s = Calls.ring(2, 3, 'g');
+            Renewed s = Calls.ring(2, 3, 'g');
             int twelve = Calls.twelveWords(s);
             int zero = Calls.ideal(s, "");
             int all = Calls.ideal(s, "1 000");
@@ -509,7 +543,7 @@ public final class EdgesTest {
         });
         Calls.test("10: letters 0 to the last one", () -> {
             for (int letters = 2; letters <= 3; letters++) {
-                Syzygium s = Calls.ring(3, letters, 'g');
+                Renewed s = Calls.ring(3, letters, 'g');
                 Calls.ideal(s, letters == 2 ? "1 310" : "1 211");
                 int last = letters - 1;
                 Calls.due("x", s.lead(0, 0, 0), letters == 2 ? 3 : 2);
@@ -520,11 +554,11 @@ public final class EdgesTest {
             }
         });
         Calls.test("10: a power of 6, the greatest one", () -> {
-            Syzygium s = Calls.ring(2, 3, 'g');
+            Renewed s = Calls.ring(2, 3, 'g');
             Calls.due(Calls.leads(s, Calls.sixthPowers(s), 3), "006 060 600");
         });
         Calls.test("11: one word, and many", () -> {
-            Syzygium s = Calls.ring(7, 3, 'g');
+            Renewed s = Calls.ring(7, 3, 'g');
             for (int[] w : Calls.words(3, 4, 'g')) {
                 s.term(3, w[0], w[1], w[2]);
             }
@@ -537,7 +571,7 @@ public final class EdgesTest {
             "standard", "standardAt", "series", "polynomial", "dimension", "multiplicity", "roots", "table", "length",
             "regularity", "depth", "isOfWords", "components", "componentAt", "primes", "primeAt", "radical", "without"}) {
             Calls.test(name + ": there is no such ideal: below 0, and from how many there are on", () -> {
-                Syzygium s = new Syzygium();
+                Renewed s = new Renewed();
                 for (int ideals = 0; ideals <= 11; ideals++) {
                     for (int no : new int[] {Calls.LEAST, -12, -1, ideals, ideals + 1, 12, 13, Calls.MOST}) {
                         Calls.due(no + " of " + ideals, Calls.of(() -> called(s, name, no)), Calls.INDEX);
@@ -559,7 +593,7 @@ public final class EdgesTest {
     }
 
     /** Calls a method of one ideal, with arguments that are fine otherwise for that of x. */
-    static Object called(Syzygium s, String name, int ideal) {
+    static Object called(Renewed s, String name, int ideal) {
         switch (name) {
             case "size": return s.size(ideal);
             case "lead": return s.lead(ideal, 0, 0);
@@ -594,7 +628,7 @@ public final class EdgesTest {
         Calls.test("12: from 1 to the prime less 1", () -> {
             for (int prime : PRIMES) {
                 for (int number = 1; number < prime; number++) {
-                    Syzygium s = Calls.ring(prime, 3, 'g');
+                    Renewed s = Calls.ring(prime, 3, 'g');
                     s.term(number, 0, 0, 0);
                     Calls.poly(s, "1 211");
                     s.push();
@@ -605,7 +639,7 @@ public final class EdgesTest {
             }
         });
         Calls.test("12: 0 if it is not there", () -> {
-            Syzygium s = Calls.ring(7, 3, 'g');
+            Renewed s = Calls.ring(7, 3, 'g');
             Calls.ideal(s, "1 211, 3 011");
             int there = 0;
             for (int x = 0; x <= 6; x++) {
@@ -620,7 +654,7 @@ public final class EdgesTest {
         Calls.test("12: 0 if a power cannot be, though others make good for it", () -> {
             int[] no = {Calls.LEAST, -4097, -4096, -4095, -2, -1, 7, 8, 41, 4095, 4096, 4097, 4098, 1 << 24, Calls.MOST};
             for (char order : new char[] {'g', 'd'}) {
-                Syzygium s = Calls.ring(7, 3, order);
+                Renewed s = Calls.ring(7, 3, order);
                 Calls.ideal(s, "1 211, 3 110, 2 100, 4 010, 6 001, 5 000");
                 for (int power : no) {
                     for (int rest = 0; rest <= 2; rest++) {
@@ -636,7 +670,7 @@ public final class EdgesTest {
             }
         });
         Calls.test("12: 0 for a power of a letter that there is not", () -> {
-            Syzygium s = Calls.ring(7, 2, 'g');
+            Renewed s = Calls.ring(7, 2, 'g');
             Calls.ideal(s, "1 210, 3 110, 5 000");
             for (int z : new int[] {Calls.LEAST, -1, 1, 2, 6, 7, Calls.MOST}) {
                 Calls.due("xxy z" + z, s.numberOf(0, 0, 2, 1, z), 0);
@@ -645,7 +679,7 @@ public final class EdgesTest {
             Calls.due("z to 0", s.numberOf(0, 0, 2, 1, 0) + s.numberOf(0, 0, 0, 0, 0), 6);
         });
         Calls.test("12: a power of 6, the greatest one", () -> {
-            Syzygium s = Calls.ring(2, 3, 'g');
+            Renewed s = Calls.ring(2, 3, 'g');
             int sixth = Calls.sixthPowers(s);
             Calls.due(s.numberOf(sixth, 0, 0, 0, 6) + s.numberOf(sixth, 1, 0, 6, 0) + s.numberOf(sixth, 2, 6, 0, 0), 3);
             Calls.due("all at once", s.numberOf(sixth, 0, 6, 6, 6), 0);
@@ -654,13 +688,13 @@ public final class EdgesTest {
 
     private static void belonging() {
         Calls.test("13: 0 is in each ideal, that of 0 too", () -> {
-            Syzygium s = Calls.ring(3, 2, 'g');
+            Renewed s = Calls.ring(3, 2, 'g');
             Calls.due("of 0", s.has(Calls.ideal(s, "")), true);
             Calls.due("of all", s.has(Calls.ideal(s, "1 000")), true);
             Calls.due("of x", s.has(Calls.ideal(s, "1 100")), true);
         });
         Calls.test("13: in the ideal of 0 there is nothing else, in that of all everything", () -> {
-            Syzygium s = Calls.ring(3, 3, 'g');
+            Renewed s = Calls.ring(3, 3, 'g');
             Calls.ideal(s, "");
             Calls.ideal(s, "2 000");
             for (int[] w : Calls.words(3, 4, 'g')) {
@@ -670,14 +704,14 @@ public final class EdgesTest {
             }
         });
         Calls.test("13: the polynomial stays", () -> {
-            Syzygium s = Calls.ring(3, 2, 'g');
+            Renewed s = Calls.ring(3, 2, 'g');
             Calls.ideal(s, "1 100");
             Calls.poly(s, "2 110, 1 010");
             Calls.due(s.has(0), false);
             Calls.due(Calls.polynomial(s, 3), "xy 2.110 1.010");
         });
         Calls.test("14: the rest of 0 is 0, by 0 it stays, by all it is 0", () -> {
-            Syzygium s = Calls.ring(5, 3, 'g');
+            Renewed s = Calls.ring(5, 3, 'g');
             Calls.ideal(s, "");
             Calls.ideal(s, "1 000");
             Calls.due("of 0 by 0", s.rest(0), 0);
@@ -689,7 +723,7 @@ public final class EdgesTest {
             Calls.due("0", s.wipe(), 0);
         });
         Calls.test("14: standard words alone, and it differs by something in the ideal", () -> {
-            Syzygium s = Calls.ring(5, 3, 'g');
+            Renewed s = Calls.ring(5, 3, 'g');
             Calls.ideal(s, "1 200, 4 010, 4 001, 4 000");
             Calls.poly(s, "1 400");
             Calls.due("more words than before", s.rest(0), 6);
@@ -697,7 +731,7 @@ public final class EdgesTest {
             Calls.due("again", s.rest(0), 6);
         });
         Calls.test("14: of the degree 4, the greatest one, by leading words of it", () -> {
-            Syzygium s = Calls.ring(2, 3, 'd');
+            Renewed s = Calls.ring(2, 3, 'd');
             int twelve = Calls.twelveWords(s);
             for (int[] w : Calls.words(3, 4, 'd')) {
                 s.term(1, w[0], w[1], w[2]);
@@ -708,7 +742,7 @@ public final class EdgesTest {
 
     private static void radicalMembers() {
         Calls.test("15: 0 is in each radical; of that of 0 nothing else", () -> {
-            Syzygium s = Calls.ring(3, 2, 'g');
+            Renewed s = Calls.ring(3, 2, 'g');
             Calls.ideal(s, "");
             Calls.ideal(s, "1 000");
             Calls.due("of 0", s.inRadical(0), true);
@@ -722,7 +756,7 @@ public final class EdgesTest {
             Calls.due("1, of all", s.inRadical(1), true);
         });
         Calls.test("15: some power: the sixth, and one far beyond", () -> {
-            Syzygium s = Calls.ring(2, 3, 'g');
+            Renewed s = Calls.ring(2, 3, 'g');
             int sixth = Calls.sixthPowers(s);
             Calls.poly(s, "1 100");
             Calls.due("x", s.inRadical(sixth), true);
@@ -733,7 +767,7 @@ public final class EdgesTest {
             Calls.due("x + y + z + 1", s.inRadical(sixth), false);
         });
         Calls.test("15: not where it is not 0 at all roots, be these no numbers of the ring", () -> {
-            Syzygium s = Calls.ring(3, 2, 'g');
+            Renewed s = Calls.ring(3, 2, 'g');
             Calls.ideal(s, "1 200, 1 000");
             Calls.due("no roots here", s.roots(0), 0);
             Calls.poly(s, "1 010");
@@ -742,7 +776,7 @@ public final class EdgesTest {
             Calls.due("x^4 - 1", s.inRadical(0), true);
         });
         Calls.test("15: whatever was asked before", () -> {
-            Syzygium s = Calls.ring(5, 2, 'g');
+            Renewed s = Calls.ring(5, 2, 'g');
             Calls.ideal(s, "1 200");
             Calls.ideal(s, "1 010");
             Calls.poly(s, "1 010");
@@ -754,14 +788,14 @@ public final class EdgesTest {
             Calls.due("x is not in that of (y)", s.inRadical(1), false);
         });
         Calls.test("15: the polynomial stays", () -> {
-            Syzygium s = Calls.ring(3, 2, 'g');
+            Renewed s = Calls.ring(3, 2, 'g');
             Calls.ideal(s, "1 200");
             Calls.poly(s, "2 110, 1 100");
             Calls.due(s.inRadical(0), true);
             Calls.due(Calls.polynomial(s, 3), "xy 2.110 1.100");
         });
         Calls.test("15: what would be refused on the way is no fault", () -> {
-            Syzygium s = Calls.ring(3, 3, 'd');
+            Renewed s = Calls.ring(3, 3, 'd');
             Calls.ideal(s, "1 030; 1 200, 2 112");
             Calls.ideal(s, "2 103, 2 010");
             Calls.due("the quotient is refused", Calls.of(() -> s.join(':', 0, 1)), Calls.REFUSED);
@@ -772,7 +806,7 @@ public final class EdgesTest {
 
     private static void comparing() {
         Calls.test("16: that of 0, that of all, and the same one", () -> {
-            Syzygium s = threeIdeals();
+            Renewed s = threeIdeals();
             for (int i = 0; i < 6; i++) {
                 for (int j = 0; j < 6; j++) {
                     Calls.due(i + " " + j, s.isSame(i, j), i % 3 == j % 3);
@@ -780,7 +814,7 @@ public final class EdgesTest {
             }
         });
         Calls.test("17: 0 within each, each within all, and each within itself", () -> {
-            Syzygium s = threeIdeals();
+            Renewed s = threeIdeals();
             for (int i = 0; i < 6; i++) {
                 for (int j = 0; j < 6; j++) {
                     Calls.due(i + " " + j, s.isWithin(i, j), i % 3 == j % 3 || i % 3 == 0 || j % 3 == 2);
@@ -790,7 +824,7 @@ public final class EdgesTest {
         for (int ideals = 0; ideals <= 12; ideals += ideals == 0 ? 1 : 11) {
             int number = ideals;
             Calls.test("16, 17, 18: no such ideal, for either, of " + number, () -> {
-                Syzygium s = new Syzygium();
+                Renewed s = new Renewed();
                 for (int i = 0; i < number; i++) {
                     Calls.ideal(s, "1 100");
                 }
@@ -815,8 +849,8 @@ public final class EdgesTest {
     }
 
     /** 0, x and all, twice, by unlike polynomials. */
-    private static Syzygium threeIdeals() {
-        Syzygium s = Calls.ring(5, 2, 'g');
+    private static Renewed threeIdeals() {
+        Renewed s = Calls.ring(5, 2, 'g');
         for (String list : new String[] {"", "1 100", "1 000", "", "3 100; 2 110", "1 100; 1 100, 1 000"}) {
             Calls.ideal(s, list);
         }
@@ -836,7 +870,7 @@ public final class EdgesTest {
                 int pair = i;
                 Calls.test("18: " + kind + " of the ideals '" + lists[i / 3] + "' and '" + lists[i % 3] + "'", () -> {
                     for (char order : new char[] {'g', 'd'}) {
-                        Syzygium s = Calls.ring(3, 3, order);
+                        Renewed s = Calls.ring(3, 3, order);
                         int one = Calls.ideal(s, lists[pair / 3]);
                         int other = Calls.ideal(s, lists[pair % 3]);
                         int made = s.join(kind, one, other);
@@ -850,7 +884,7 @@ public final class EdgesTest {
             }
         }
         Calls.test("18: kinds + * & : ~ and no other ones", () -> {
-            Syzygium s = Calls.ring(3, 3, 'g');
+            Renewed s = Calls.ring(3, 3, 'g');
             Calls.ideal(s, "1 100");
             for (int no = 0; no < 300; no++) {
                 char kind = (char) no;
@@ -862,7 +896,7 @@ public final class EdgesTest {
             Calls.due("nothing has come", s.ideals(), 1);
         });
         Calls.test("18: again and again, until nothing more comes", () -> {
-            Syzygium s = Calls.ring(2, 3, 'g');
+            Renewed s = Calls.ring(2, 3, 'g');
             int sixth = Calls.sixthPowers(s);
             Calls.ideal(s, "1 100");
             Calls.due("once", Calls.leads(s, s.join(':', sixth, sixth + 1), 3), "500 006 060");
@@ -875,7 +909,7 @@ public final class EdgesTest {
             for (int letters = 2; letters <= 3; letters++) {
                 for (char order : new char[] {'g', 'd'}) {
                     for (int letter = 0; letter < letters; letter++) {
-                        Syzygium s = Calls.ring(5, letters, order);
+                        Renewed s = Calls.ring(5, letters, order);
                         Calls.due("number", s.without(Calls.ideal(s, ""), letter), 1);
                         Calls.due("of 0", s.size(1), 0);
                         Calls.due("of all", Calls.basis(s, s.without(Calls.ideal(s, "2 000"), letter), letters, order),
@@ -891,7 +925,7 @@ public final class EdgesTest {
         });
         Calls.test("19: the letter in the least polynomial, or in what all have in common", () -> {
             for (char order : new char[] {'g', 'd'}) {
-                Syzygium s = Calls.ring(5, 3, order);
+                Renewed s = Calls.ring(5, 3, order);
                 Calls.ideal(s, "1 110; 1 030");
                 Calls.due("x in xy alone", Calls.leads(s, s.without(0, 0), 3), "030");
                 Calls.due("y in both", s.size(s.without(0, 1)), 0);
@@ -904,7 +938,7 @@ public final class EdgesTest {
         });
         Calls.test("19: letters 0 to the last one", () -> {
             for (int letters = 2; letters <= 3; letters++) {
-                Syzygium s = Calls.ring(5, letters, 'g');
+                Renewed s = Calls.ring(5, letters, 'g');
                 Calls.ideal(s, "1 100, 1 010");
                 Calls.due("0", s.size(s.without(0, 0)), 0);
                 Calls.due("the last one", s.size(s.without(0, letters - 1)), letters - 2);
@@ -914,7 +948,7 @@ public final class EdgesTest {
             }
         });
         Calls.test("19: an ideal of the same ring", () -> {
-            Syzygium s = Calls.ring(5, 3, 'd');
+            Renewed s = Calls.ring(5, 3, 'd');
             Calls.ideal(s, "1 100; 1 011");
             int without = s.without(0, 0);
             Calls.due("its words", Calls.leads(s, without, 3), "011");
@@ -924,9 +958,8 @@ public final class EdgesTest {
 
     private static void lastCall() {
         Calls.test("an object is used for at most 512 calls: the last one answers as the first one", () -> {
-            Syzygium s = new Syzygium();
-            int calls = 0;
-            while (calls < 498) {
+            Renewed s = new Renewed();
+            for (int calls = 0; calls < 480; calls += 12) {
                 s.begin(7, 3, 'd');
                 s.term(1, 3, 0, 1);
                 s.term(3, 1, 2, 0);
@@ -939,7 +972,9 @@ public final class EdgesTest {
                 Calls.of(() -> s.join('*', 0, 0));
                 Calls.of(() -> s.join('&', 0, 0));
                 Calls.of(() -> s.without(0, 2));
-                calls += 12;
+            }
+            for (int calls = 480; calls < 490; calls++) {
+                s.ideals();
             }
             s.begin(5, 3, 'g');
             s.term(1, 2, 0, 0);
@@ -948,10 +983,11 @@ public final class EdgesTest {
             s.term(1, 1, 1, 0);
             s.term(-1, 0, 0, 2);
             s.push();
-            calls += 7;
             Calls.due("the number", s.ideal(), 0);
             Calls.due("sound", s.isSound(), true);
-            Calls.due("the last one", Calls.leads(s, 0, 3), "110 200 021");
+            Calls.due("the last 13 calls", Calls.leads(s, 0, 3), "110 200 021");
+            Calls.due("all of one object", s.renewals(), 0);
+            Calls.due("one more would not be", s.size(0) + s.renewals(), 4);
         });
     }
 }

@@ -16,8 +16,8 @@ public final class FacesEdgesTest {
         Calls.end();
     }
 
-    private static Syzygium withFaces(int... sets) {
-        Syzygium s = new Syzygium();
+    private static Renewed withFaces(int... sets) {
+        Renewed s = new Renewed();
         for (int set : sets) {
             s.put(set);
         }
@@ -41,14 +41,14 @@ public final class FacesEdgesTest {
             Calls.due("1", withFaces().put(1), 1);
             Calls.due("32", withFaces().put(32), 1);
             Calls.due("63", withFaces().put(63), 1);
-            Syzygium s = withFaces(5);
+            Renewed s = withFaces(5);
             for (int no : new int[] {Calls.LEAST, -63, -1, 0, 64, 65, 127, 128, Calls.MOST}) {
                 Calls.due("" + no, Calls.of(() -> s.put(no)), Calls.ARGUMENT);
             }
             Calls.due("faces", s.clear(), 4);
         });
         Calls.test("38: how many facets there are, up to 20", () -> {
-            Syzygium s = new Syzygium();
+            Renewed s = new Renewed();
             for (int i = 0; i < 20; i++) {
                 Calls.due("one more", s.put(TRIPLES[i]), i + 1);
             }
@@ -59,7 +59,7 @@ public final class FacesEdgesTest {
         });
         Calls.test("38: each face that is within, the empty one too, and no other one", () -> {
             for (int set = 1; set <= 63; set++) {
-                Syzygium s = withFaces(set);
+                Renewed s = withFaces(set);
                 int points = Integer.bitCount(set);
                 Calls.due("" + set, s.facetAt(0), set);
                 int ways = 1;
@@ -71,12 +71,12 @@ public final class FacesEdgesTest {
             }
         });
         Calls.test("39: none, all, and what is left", () -> {
-            Calls.due("none", new Syzygium().clear(), 0);
-            Syzygium s = withFaces(63);
+            Calls.due("none", new Renewed().clear(), 0);
+            Renewed s = withFaces(63);
             Calls.due("all", s.clear(), 64);
             Calls.due("none is left", s.faces(-1) + s.faces(0) + s.faces(5) + s.clear(), 0);
             Calls.due("one point", withFaces(32).clear(), 2);
-            Syzygium empty = withFaces(SPHERE);
+            Renewed empty = withFaces(SPHERE);
             empty.dual();
             Calls.due("the empty face alone", empty.clear(), 1);
         });
@@ -84,7 +84,7 @@ public final class FacesEdgesTest {
 
     private static void facesCounted() {
         Calls.test("40: dimensions -1 to 5", () -> {
-            Syzygium s = withFaces(63);
+            Renewed s = withFaces(63);
             Calls.due("-1", s.faces(-1), 1);
             Calls.due("0", s.faces(0), 6);
             Calls.due("4", s.faces(4), 6);
@@ -95,7 +95,7 @@ public final class FacesEdgesTest {
             }
         });
         Calls.test("40: the empty one too, if something was put in", () -> {
-            Syzygium s = new Syzygium();
+            Renewed s = new Renewed();
             Calls.due("nothing", s.faces(-1), 0);
             s.put(8);
             Calls.due("a point", s.faces(-1) + " " + s.faces(0), "1 1");
@@ -106,7 +106,7 @@ public final class FacesEdgesTest {
 
     private static void facets() {
         Calls.test("41: index 0 to the last one of 20, by rising numbers", () -> {
-            Syzygium s = new Syzygium();
+            Renewed s = new Renewed();
             for (int i = 19; i >= 0; i--) {
                 s.put(TRIPLES[i]);
             }
@@ -119,7 +119,7 @@ public final class FacesEdgesTest {
         });
         Calls.test("41: no face, the empty face alone, all points", () -> {
             Calls.due("no face", Calls.of(() -> withFaces().facetAt(0)), Calls.NONE);
-            Syzygium s = withFaces(SPHERE);
+            Renewed s = withFaces(SPHERE);
             s.dual();
             Calls.due("the empty face", s.facetAt(0), 0);
             Calls.due("not two", Calls.of(() -> s.facetAt(1)), Calls.NONE);
@@ -128,7 +128,7 @@ public final class FacesEdgesTest {
         });
     }
 
-    private static String holesTold(Syzygium s) {
+    private static String holesTold(Renewed s) {
         StringBuilder b = new StringBuilder();
         for (int d = -1; d <= 5; d++) {
             b.append(s.holes(d)).append(d < 5 ? " " : "");
@@ -139,7 +139,7 @@ public final class FacesEdgesTest {
     private static void holes() {
         Calls.test("42: no faces, the empty face alone, a point, all points", () -> {
             Calls.due("no faces", holesTold(withFaces()), "0 0 0 0 0 0 0");
-            Syzygium s = withFaces(SPHERE);
+            Renewed s = withFaces(SPHERE);
             s.dual();
             Calls.due("the empty face", holesTold(s), "1 0 0 0 0 0 0");
             Calls.due("a point", holesTold(withFaces(4)), "0 0 0 0 0 0 0");
@@ -148,7 +148,7 @@ public final class FacesEdgesTest {
         Calls.test("42: holes of each dimension, of all faces up to one", () -> {
             for (int prime : PRIMES) {
                 for (int points = 1; points <= 5; points++) {
-                    Syzygium s = new Syzygium();
+                    Renewed s = new Renewed();
                     s.begin(prime, 2, 'g');
                     int due = 1;
                     for (int set = 1; set < 64; set++) {
@@ -169,7 +169,7 @@ public final class FacesEdgesTest {
             // The projective plane of six points: holes modulo 2 alone.
             int[] sets = {7, 13, 25, 49, 35, 22, 44, 26, 52, 42};
             for (int prime : PRIMES) {
-                Syzygium s = withFaces(sets);
+                Renewed s = withFaces(sets);
                 s.begin(prime, 3, 'd');
                 Calls.due("" + prime, holesTold(s), prime == 2 ? "0 0 1 1 0 0 0" : "0 0 0 0 0 0 0");
             }
@@ -178,25 +178,25 @@ public final class FacesEdgesTest {
 
     private static void duals() {
         Calls.test("43: of no face all sets, of all sets none", () -> {
-            Syzygium s = new Syzygium();
+            Renewed s = new Renewed();
             Calls.due("all", s.dual(), 64);
             Calls.due("all points are one", s.faces(5) + " " + s.facetAt(0), "1 63");
             Calls.due("none", s.dual(), 0);
             Calls.due("none", s.faces(-1), 0);
         });
         Calls.test("43: of all but one the empty face, and back", () -> {
-            Syzygium s = withFaces(SPHERE);
+            Renewed s = withFaces(SPHERE);
             Calls.due("one", s.dual(), 1);
             Calls.due("it is the empty one", s.faces(-1) + " " + s.faces(0), "1 0");
             Calls.due("63", s.dual(), 63);
             Calls.due("facets", s.facetAt(0) + " " + s.facetAt(5), "31 62");
         });
         Calls.test("43: of a point, and of the points", () -> {
-            Syzygium s = withFaces(1);
+            Renewed s = withFaces(1);
             Calls.due("all but two", s.dual(), 62);
             Calls.due("not those of 5 points with it", s.faces(4) + " " + s.faces(3), "5 15");
             Calls.due("and back", s.dual() + " " + s.facetAt(0), "2 1");
-            Syzygium t = withFaces(1, 2, 4, 8, 16, 32);
+            Renewed t = withFaces(1, 2, 4, 8, 16, 32);
             Calls.due("up to 4 points", t.dual() + " " + t.faces(4) + " " + t.faces(3), "57 0 15");
         });
     }
@@ -204,7 +204,7 @@ public final class FacesEdgesTest {
     private static void shellings() {
         Calls.test("44: no face", () -> {
             Calls.due("at first", Calls.of(() -> withFaces().canBeShelled()), Calls.REFUSED);
-            Syzygium s = withFaces(63);
+            Renewed s = withFaces(63);
             s.clear();
             Calls.due("cleared", Calls.of(s::canBeShelled), Calls.REFUSED);
             s.put(63);
@@ -216,16 +216,16 @@ public final class FacesEdgesTest {
             for (int set : new int[] {1, 3, 7, 15, 31, 63}) {
                 Calls.due("" + set, withFaces(set).canBeShelled(), true);
             }
-            Syzygium s = withFaces(SPHERE);
+            Renewed s = withFaces(SPHERE);
             s.dual();
             Calls.due("the empty face alone", s.canBeShelled(), true);
         });
         Calls.test("44: 8 facets, not more", () -> {
-            Syzygium s = new Syzygium();
+            Renewed s = new Renewed();
             for (int i = 0; i < 7; i++) {
                 s.put(new int[] {7, 11, 13, 14, 19, 21, 22}[i]);
             }
-            Syzygium t = withFaces(7, 11, 13, 14, 19, 21, 22);
+            Renewed t = withFaces(7, 11, 13, 14, 19, 21, 22);
             Calls.due("8, that can", s.put(35) + " " + s.canBeShelled(), "8 true");
             Calls.due("8, that cannot", t.put(56) + " " + t.canBeShelled(), "8 false");
             Calls.due("9", s.put(37) + " " + Calls.of(s::canBeShelled), "9 " + Calls.REFUSED);
@@ -237,7 +237,7 @@ public final class FacesEdgesTest {
             Calls.due("a line and a point", withFaces(3, 4).canBeShelled(), false);
             Calls.due("a plane and a line at it", withFaces(7, 12).canBeShelled(), false);
             Calls.due("more than 8 of them", Calls.of(() -> {
-                Syzygium s = withFaces(TRIPLES);
+                Renewed s = withFaces(TRIPLES);
                 s.put(15);
                 return s.canBeShelled();
             }), Calls.REFUSED);
@@ -267,7 +267,7 @@ public final class FacesEdgesTest {
 
     private static void ways() {
         Calls.test("45: numbers 1 to 1000, a sum 0 to 1000000", () -> {
-            Syzygium s = new Syzygium();
+            Renewed s = new Renewed();
             int[] numbers = {1, 2, 997, 999, 1000};
             for (int one : numbers) {
                 for (int two : numbers) {
@@ -282,7 +282,7 @@ public final class FacesEdgesTest {
             Calls.due("the most", s.ways(1, 1, 1, 1000000), 500001500001L);
         });
         Calls.test("45: a number out of range", () -> {
-            Syzygium s = new Syzygium();
+            Renewed s = new Renewed();
             for (int no : new int[] {Calls.LEAST, -1, 0, 1001, 1002, Calls.MOST}) {
                 Calls.due("one " + no, Calls.of(() -> s.ways(no, 1, 1, 1)), Calls.ARGUMENT);
                 Calls.due("two " + no, Calls.of(() -> s.ways(1, no, 1, 1)), Calls.ARGUMENT);
@@ -293,7 +293,7 @@ public final class FacesEdgesTest {
             }
         });
         Calls.test("45: none too; like numbers count apart", () -> {
-            Syzygium s = new Syzygium();
+            Renewed s = new Renewed();
             Calls.due("none of each", s.ways(1, 1, 1, 0), 1);
             Calls.due("1 of three likes", s.ways(1, 1, 1, 1), 3);
             Calls.due("two likes", s.ways(2, 2, 3, 4), 3);

@@ -30,14 +30,14 @@ public final class PromiseTest {
     private static final String NONE = "NoSuchElementException";
     private static final String NUMBERS = "ArithmeticException";
 
-    private static Syzygium ring(int prime, int letters, char order) {
-        Syzygium s = new Syzygium();
+    private static Renewed ring(int prime, int letters, char order) {
+        Renewed s = new Renewed();
         s.begin(prime, letters, order);
         return s;
     }
 
     /** Adds terms told as "number xyz-powers", as in "1 200, -1 011", and pushes; polynomials apart by ';'. */
-    private static void list(Syzygium s, String polynomials) {
+    private static void list(Renewed s, String polynomials) {
         for (String polynomial : polynomials.split(";")) {
             for (String term : polynomial.trim().split(",")) {
                 String[] t = term.trim().split(" ");
@@ -47,13 +47,13 @@ public final class PromiseTest {
         }
     }
 
-    private static int ideal(Syzygium s, String polynomials) {
+    private static int ideal(Renewed s, String polynomials) {
         list(s, polynomials);
         return s.ideal();
     }
 
     /** The basis of an ideal: each polynomial from the leading term on, in falling words by the order. */
-    private static String basis(Syzygium s, int ideal) {
+    private static String basis(Renewed s, int ideal) {
         StringBuilder b = new StringBuilder();
         for (int i = 0; i < s.size(ideal); i++) {
             int fi = i;
@@ -99,7 +99,7 @@ public final class PromiseTest {
     }
 
     private static void rings() {
-        Syzygium s = new Syzygium();
+        Renewed s = new Renewed();
         due("1: ideals of a new object", s.ideals(), 0);
         due("1: faces of a new object", s.clear(), 0);
         due("1: no z at first", of(() -> s.term(1, 0, 0, 1)), ARGUMENT);
@@ -107,7 +107,7 @@ public final class PromiseTest {
         due("1: y is a letter at first", s.term(1, 0, 1, 0), 1);
         due("1: x too", s.term(1, 1, 0, 0), 2);
         due("1: no list", s.dropList(), 0);
-        Syzygium t = new Syzygium();
+        Renewed t = new Renewed();
         ideal(t, "1 020, 1 200");
         due("1: the order g at first, x before y", t.lead(0, 0, 0), 2);
 
@@ -137,16 +137,16 @@ public final class PromiseTest {
         for (int prime : new int[] {2, 3, 5, 7}) {
             due("2: fine", s.begin(prime, prime % 2 + 2, 'g'), 0);
         }
-        Syzygium g = ring(5, 3, 'g');
+        Renewed g = ring(5, 3, 'g');
         ideal(g, "1 020, 1 101");
         due("2: in g yy is before xz", basis(g, 0), "020: 1.101 1.020");
-        Syzygium d = ring(5, 3, 'd');
+        Renewed d = ring(5, 3, 'd');
         ideal(d, "1 020, 1 101");
         due("2: in d xz is before yy", basis(d, 0), "101: 1.101 1.020");
     }
 
     private static void polynomials() {
-        Syzygium s = ring(7, 3, 'g');
+        Renewed s = ring(7, 3, 'g');
         due("3: one word", s.term(3, 1, 2, 1), 1);
         due("3: another one", s.term(-1, 0, 0, 0), 2);
         due("3: no number", s.term(14, 4, 0, 0), 2);
@@ -164,7 +164,7 @@ public final class PromiseTest {
             due("3: wrong powers with the number 0", of(() -> s.term(0, w[0], w[1], w[2])), ARGUMENT);
         }
         due("3: nothing has come", s.wipe(), 0);
-        Syzygium two = ring(3, 2, 'g');
+        Renewed two = ring(3, 2, 'g');
         due("3: no z", of(() -> two.term(1, 0, 0, 1)), ARGUMENT);
         due("3: z to the power of 0", two.term(1, 4, 0, 0), 1);
         due("3: zero to nothing", two.term(3, 0, 0, 0), 1);
@@ -192,7 +192,7 @@ public final class PromiseTest {
     }
 
     private static void ideals() {
-        Syzygium s = ring(5, 3, 'g');
+        Renewed s = ring(5, 3, 'g');
         due("7: the ideal of 0", s.ideal(), 0);
         due("7: the next one", ideal(s, "1 200, -1 011; 1 110, 4 002"), 1);
         due("7: the list is empty then", s.dropList(), 0);
@@ -207,7 +207,7 @@ public final class PromiseTest {
         for (int no : new int[] {-1, 4, 12, Integer.MAX_VALUE, Integer.MIN_VALUE}) {
             due("9: no such ideal", of(() -> s.size(no)), INDEX);
         }
-        Syzygium r = ring(5, 2, 'g');
+        Renewed r = ring(5, 2, 'g');
         list(r, "1 400; 1 310, 1 040");
         due("7: y to the power of 7 is refused", of(r::ideal), REFUSED);
         due("7: the list stays then", r.dropList(), 2);
@@ -216,11 +216,11 @@ public final class PromiseTest {
             "310: 1.310 1.130; 400: 1.400; 230: 1.230; 150: 1.150");
         due("7: what comes on the way is not", basis(r, ideal(r, "1 400; 1 310, 1 040; 1 100, 1 010, 1 000")),
             "000: 1.000");
-        Syzygium q = ring(2, 3, 'g');
+        Renewed q = ring(2, 3, 'g');
         due("7: nine", q.size(ideal(q, "1 400; 1 040; 1 004; 1 220, 1 111, 1 013")), 9);
         due("7: not graded", basis(q, ideal(q, "1 400, 1 011; 1 130, 1 100; 1 004, 1 010")),
             "004: 1.010 1.004; 130: 1.130 1.100; 400: 1.400 1.011; 041: 1.041 1.011; 050: 1.050 1.020");
-        Syzygium many = ring(2, 3, 'g');
+        Renewed many = ring(2, 3, 'g');
         ideal(many, "1 400; 1 040; 1 004; 1 220, 1 202, 1 022");
         due("7: 12 polynomials at most", many.size(0) <= 12, true);
         ideal(many, "1 220; 1 202; 1 022; 1 211");
@@ -236,7 +236,7 @@ public final class PromiseTest {
     }
 
     private static void looks() {
-        Syzygium s = ring(7, 3, 'd');
+        Renewed s = ring(7, 3, 'd');
         ideal(s, "1 201, 2 010, 3 000");
         ideal(s, "1 111");
         due("10: x", s.lead(0, 0, 0), 2);
@@ -263,14 +263,14 @@ public final class PromiseTest {
         }
         due("12: no place", of(() -> s.numberOf(0, 1, 0, 0, 0)), INDEX);
         due("12: no ideal", of(() -> s.numberOf(5, 0, 0, 0, 0)), INDEX);
-        Syzygium two = ring(7, 2, 'd');
+        Renewed two = ring(7, 2, 'd');
         ideal(two, "1 100");
         due("10: no z", of(() -> two.lead(0, 0, 2)), ARGUMENT);
         due("12: no z is no fault", two.numberOf(0, 0, 1, 0, 1), 0);
     }
 
     private static void tests() {
-        Syzygium s = ring(5, 2, 'g');
+        Renewed s = ring(5, 2, 'g');
         ideal(s, "1 200; 1 020");
         ideal(s, "1 100");
         ideal(s, "1 000");
@@ -314,7 +314,7 @@ public final class PromiseTest {
         due("17: itself", s.isWithin(0, 0), true);
         due("17: no first", of(() -> s.isWithin(-1, 0)), INDEX);
         due("17: no second", of(() -> s.isWithin(0, 9)), INDEX);
-        Syzygium curve = ring(7, 3, 'g');
+        Renewed curve = ring(7, 3, 'g');
         ideal(curve, "1 200, -1 011; 1 110, -1 002");
         curve.term(1, 1, 0, 1);
         curve.term(-1, 0, 2, 0);
@@ -323,7 +323,7 @@ public final class PromiseTest {
     }
 
     private static void joins() {
-        Syzygium s = ring(3, 3, 'g');
+        Renewed s = ring(3, 3, 'g');
         int a = ideal(s, "1 200, 1 010; 1 001");
         int b = ideal(s, "1 100");
         due("18: sum", basis(s, s.join('+', a, b)), "001: 1.001; 010: 1.010; 100: 1.100");
@@ -334,7 +334,7 @@ public final class PromiseTest {
         due("18: quotient of a word", basis(s, s.join(':', c, b)), "210: 1.210");
         due("18: saturation", basis(s, s.join('~', c, b)), "010: 1.010");
         due("18: the number", s.ideals(), 9);
-        Syzygium o = ring(2, 2, 'd');
+        Renewed o = ring(2, 2, 'd');
         o.ideal();
         ideal(o, "1 000");
         ideal(o, "1 200; 1 020");
@@ -347,7 +347,7 @@ public final class PromiseTest {
         due("18: times 0", o.size(o.join('*', 2, 0)), 0);
         due("18: and 0", o.isSame(o.join('+', 0, 2), 2), true);
         due("18: its own saturation", basis(o, o.join('~', 2, 2)), "000: 1.000");
-        Syzygium e = ring(2, 2, 'g');
+        Renewed e = ring(2, 2, 'g');
         ideal(e, "1 400, 1 010");
         due("18: no kind first", of(() -> e.join('-', 5, 5)), ARGUMENT);
         due("18: no kind", of(() -> e.join('x', 0, 0)), ARGUMENT);
@@ -355,7 +355,7 @@ public final class PromiseTest {
         due("18: no second one", of(() -> e.join('+', 0, 1)), INDEX);
         due("18: refused", of(() -> e.join('*', 0, 0)), REFUSED);
         due("18: nothing has come", e.ideals(), 1);
-        Syzygium big = ring(7, 3, 'g');
+        Renewed big = ring(7, 3, 'g');
         ideal(big, "1 400, 1 010, 2 001; 1 040, 3 111, 1 000");
         ideal(big, "1 400, 3 020, 1 001; 1 004, 3 110, 5 000");
         due("18: a meet of high degrees", of(() -> big.join('&', 0, 1)), REFUSED);
@@ -366,7 +366,7 @@ public final class PromiseTest {
     }
 
     private static void freed() {
-        Syzygium s = ring(5, 3, 'g');
+        Renewed s = ring(5, 3, 'g');
         int a = ideal(s, "1 200, -1 011; 1 110, -1 002");
         due("19: without x", basis(s, s.without(a, 0)), "031: 1.031 4.004");
         due("19: without z", basis(s, s.without(a, 2)), "400: 1.400 4.130");
@@ -380,15 +380,15 @@ public final class PromiseTest {
         due("19: no ideal before no letter", of(() -> s.without(-1, 3)), INDEX);
         due("19: no letter", of(() -> s.without(0, 3)), ARGUMENT);
         due("19: no letter -1", of(() -> s.without(0, -1)), ARGUMENT);
-        Syzygium t = ring(2, 2, 'g');
+        Renewed t = ring(2, 2, 'g');
         ideal(t, "1 400, 1 010; 1 040, 1 100, 1 000");
         due("19: degree 16 is refused", of(() -> t.without(0, 0)), REFUSED);
         due("19: no z", of(() -> t.without(0, 2)), ARGUMENT);
-        Syzygium v = ring(3, 3, 'g');
+        Renewed v = ring(3, 3, 'g');
         int eight = ideal(v, "1 020; 1 004, -1 100; 1 200");
         due("19: a square, and z to the power of 8 beside it", of(() -> v.without(eight, 0)), REFUSED);
         due("19: but without y", basis(v, v.without(eight, 1)), "200: 1.200; 004: 2.100 1.004");
-        Syzygium u = ring(7, 3, 'd');
+        Renewed u = ring(7, 3, 'd');
         ideal(u, "1 400, 1 110, 2 001; 1 040, 3 111, 1 000");
         due("19: a curve of degree 16", of(() -> u.without(0, 0)), REFUSED);
         ideal(u, "1 100, 1 001");
@@ -401,7 +401,7 @@ public final class PromiseTest {
     }
 
     private static void counting() {
-        Syzygium s = ring(5, 3, 'g');
+        Renewed s = ring(5, 3, 'g');
         int a = ideal(s, "1 200, -1 011; 1 110, -1 002");
         int zero = s.ideal();
         int all = ideal(s, "1 000");
@@ -441,7 +441,7 @@ public final class PromiseTest {
             g += s.standardAt(zero, i, 0) + "" + s.standardAt(zero, i, 1) + s.standardAt(zero, i, 2) + " ";
         }
         due("22: in the order g", g, "002 011 101 020 110 200 ");
-        Syzygium d = ring(5, 3, 'd');
+        Renewed d = ring(5, 3, 'd');
         d.ideal();
         String words2 = "";
         for (int i = 4; i < 10; i++) {
@@ -451,14 +451,14 @@ public final class PromiseTest {
         due("22: no z", of(() -> ring2().standardAt(0, 0, 2)), ARGUMENT);
     }
 
-    private static Syzygium ring2() {
-        Syzygium s = new Syzygium();
+    private static Renewed ring2() {
+        Renewed s = new Renewed();
         s.ideal();
         return s;
     }
 
     private static void values() {
-        Syzygium s = ring(5, 3, 'g');
+        Renewed s = ring(5, 3, 'g');
         int a = ideal(s, "1 200, -1 011; 1 110, -1 002");
         int zero = s.ideal();
         int all = ideal(s, "1 000");
@@ -504,7 +504,7 @@ public final class PromiseTest {
         int none = ideal(s, "1 200, -2 000");
         due("27: 2 is no square modulo 5", s.roots(none), 0);
         due("27: no ideal", of(() -> s.roots(6)), INDEX);
-        Syzygium two = ring(7, 2, 'g');
+        Renewed two = ring(7, 2, 'g');
         two.ideal();
         due("27: two letters", two.roots(0), 49);
         due("26: two letters", two.multiplicity(0), 1);
@@ -514,7 +514,7 @@ public final class PromiseTest {
         due("27: two lines", two.roots(1), 13);
     }
 
-    private static String table(Syzygium s, int ideal, int letters) {
+    private static String table(Renewed s, int ideal, int letters) {
         StringBuilder b = new StringBuilder();
         for (int i = 0; i <= letters; i++) {
             for (int j = 0; j <= 18; j++) {
@@ -527,7 +527,7 @@ public final class PromiseTest {
     }
 
     private static void tables() {
-        Syzygium s = ring(3, 3, 'g');
+        Renewed s = ring(3, 3, 'g');
         int quadrics = ideal(s, "1 200, -1 011; 1 110, -1 002");
         int zero = s.ideal();
         int all = ideal(s, "1 000");
@@ -557,7 +557,7 @@ public final class PromiseTest {
         due("29: no ideal", of(() -> s.length(6)), INDEX);
         due("30: no ideal", of(() -> s.regularity(-1)), INDEX);
         due("31: no ideal", of(() -> s.depth(12)), INDEX);
-        Syzygium two = ring(3, 2, 'g');
+        Renewed two = ring(3, 2, 'g');
         ideal(two, "1 100; 1 010");
         due("28: i 3 with two letters", of(() -> two.table(0, 3, 0)), ARGUMENT);
         due("28: two letters", table(two, 0, 2), "0,0=1 1,1=2 2,2=1 ");
@@ -567,7 +567,7 @@ public final class PromiseTest {
         due("28: a new ring has new tables", table(two, 0, 2), "0,0=1 1,2=1 ");
     }
 
-    private static String components(Syzygium s, int ideal, int letters) {
+    private static String components(Renewed s, int ideal, int letters) {
         StringBuilder b = new StringBuilder();
         for (int i = 0; i < s.components(ideal); i++) {
             for (int letter = 0; letter < letters; letter++) {
@@ -578,7 +578,7 @@ public final class PromiseTest {
         return b.toString();
     }
 
-    private static String primes(Syzygium s, int ideal) {
+    private static String primes(Renewed s, int ideal) {
         StringBuilder b = new StringBuilder();
         for (int i = 0; i < s.primes(ideal); i++) {
             b.append(s.primeAt(ideal, i)).append(' ');
@@ -587,7 +587,7 @@ public final class PromiseTest {
     }
 
     private static void ofWords() {
-        Syzygium s = ring(2, 3, 'd');
+        Renewed s = ring(2, 3, 'd');
         int a = ideal(s, "1 210; 1 021; 1 102");
         int zero = s.ideal();
         int all = ideal(s, "1 000");
@@ -627,13 +627,13 @@ public final class PromiseTest {
         due("37: of powers", basis(s, s.radical(powers)), "100: 1.100");
         due("37: not of words", of(() -> s.radical(mixed)), REFUSED);
         due("37: no ideal", of(() -> s.radical(9)), INDEX);
-        Syzygium two = ring(2, 2, 'g');
+        Renewed two = ring(2, 2, 'g');
         ideal(two, "1 220; 1 130");
         due("33 34: two letters", components(two, 0, 2), "02 10 23 ");
         due("34: no z", of(() -> two.componentAt(0, 0, 2)), ARGUMENT);
     }
 
-    private static String holes(Syzygium s) {
+    private static String holes(Renewed s) {
         StringBuilder b = new StringBuilder();
         for (int d = -1; d <= 5; d++) {
             b.append(s.holes(d)).append(' ');
@@ -642,7 +642,7 @@ public final class PromiseTest {
     }
 
     private static void faces() {
-        Syzygium s = new Syzygium();
+        Renewed s = new Renewed();
         due("39: none", s.clear(), 0);
         due("42: nothing has no holes", holes(s), "0 0 0 0 0 0 0 ");
         due("40: not even the empty face", s.faces(-1), 0);
@@ -685,7 +685,7 @@ public final class PromiseTest {
         due("38: the empty face is no facet then", s.put(1), 1);
 
         // The projective plane on 6 points has holes modulo 2 alone.
-        Syzygium p = new Syzygium();
+        Renewed p = new Renewed();
         for (int facet : projective()) {
             p.put(facet);
         }
@@ -709,7 +709,7 @@ public final class PromiseTest {
     }
 
     private static void shelling() {
-        Syzygium s = new Syzygium();
+        Renewed s = new Renewed();
         due("44: no face", of(s::canBeShelled), REFUSED);
         s.put(7);
         due("44: one facet", s.canBeShelled(), true);
@@ -740,7 +740,7 @@ public final class PromiseTest {
     }
 
     private static void sums() {
-        Syzygium s = new Syzygium();
+        Renewed s = new Renewed();
         due("45: 3, 5, 7 to 100", s.ways(3, 5, 7, 100), 55);
         due("45: like numbers", s.ways(1, 1, 1, 1000000), 500001500001L);
         due("45: not reached", s.ways(6, 10, 15, 29), 0);
@@ -776,7 +776,7 @@ public final class PromiseTest {
     }
 
     private static void shares() {
-        Syzygium s = ring(5, 2, 'g');
+        Renewed s = ring(5, 2, 'g');
         due("46: none", of(s::gradedShare), NUMBERS);
         due("47: none", of(s::meanSize), NUMBERS);
         due("48: at first", s.checksum(), 7);
@@ -794,7 +794,7 @@ public final class PromiseTest {
         ideal(s, "1 200; 1 010");
         due("47: seven in six", s.meanSize(), 7.0 / 6.0);
         due("49: all is sound", s.isSound(), true);
-        Syzygium t = ring(7, 3, 'g');
+        Renewed t = ring(7, 3, 'g');
         ideal(t, "2 100, 1 001; 1 020");
         long sum = 31 * 7 + 1 + 11;
         sum = 31 * sum + 4 + 23;
@@ -805,7 +805,7 @@ public final class PromiseTest {
         ideal(t, "1 000");
         due("48: 1", t.checksum(), 31 * sum + 1);
         for (char order : new char[] {'g', 'd'}) {
-            Syzygium u = ring(3, 3, order);
+            Renewed u = ring(3, 3, order);
             ideal(u, "1 200, -1 011; 1 110, -1 002");
             ideal(u, "1 310; 1 022; 1 103; 1 040");
             ideal(u, "1 310, 1 000; 1 022, 2 100");
@@ -815,7 +815,7 @@ public final class PromiseTest {
     }
 
     private static void full() {
-        Syzygium s = ring(2, 2, 'g');
+        Renewed s = ring(2, 2, 'g');
         for (int i = 0; i < 12; i++) {
             due("7: the number", i % 2 == 0 ? ideal(s, "1 400, 1 010") : ideal(s, "1 220; 1 130"), i);
         }
@@ -830,7 +830,7 @@ public final class PromiseTest {
         due("8: twelve", s.ideals(), 12);
         due("2: twelve", s.begin(2, 2, 'g'), 12);
         due("7: from 0 again", s.ideal(), 0);
-        Syzygium t = ring(2, 3, 'g');
+        Renewed t = ring(2, 3, 'g');
         for (int i = 0; i < 12; i++) {
             t.ideal();
         }
@@ -841,7 +841,7 @@ public final class PromiseTest {
 
     /** Where the only ideal is neither graded nor of words, a missing one is told as missing first. */
     private static void orders() {
-        Syzygium s = ring(3, 2, 'g');
+        Renewed s = ring(3, 2, 'g');
         ideal(s, "1 400, 1 010; 1 040, 1 100, 1 000");
         due("28: missing first", of(() -> s.table(1, 0, 0)), INDEX);
         due("29: missing first", of(() -> s.length(1)), INDEX);
@@ -862,7 +862,7 @@ public final class PromiseTest {
     }
 
     private static void unchanged() {
-        Syzygium s = ring(3, 3, 'g');
+        Renewed s = ring(3, 3, 'g');
         ideal(s, "1 200, 2 011; 1 110");
         s.term(1, 1, 0, 0);
         s.push();

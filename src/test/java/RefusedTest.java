@@ -44,8 +44,8 @@ public final class RefusedTest {
     }
 
     /** A state in which nothing is as in a new object, with 5 ideals or 12. */
-    private static Syzygium state(int letters, boolean isFull) {
-        Syzygium s = Calls.ring(PRIME, letters, 'd');
+    private static Renewed state(int letters, boolean isFull) {
+        Renewed s = Calls.ring(PRIME, letters, 'd');
         Calls.ideal(s, "1 400, 1 010; 1 040, 1 100, 1 000");
         Calls.ideal(s, "1 220; 1 130");
         Calls.ideal(s, "");
@@ -62,7 +62,7 @@ public final class RefusedTest {
     }
 
     /** All that can be told of an object; it is another one afterwards. */
-    private static String told(Syzygium s, int prime) {
+    private static String told(Renewed s, int prime) {
         StringBuilder b = new StringBuilder("polynomial " + Calls.polynomial(s, prime));
         int letters = Calls.of(() -> s.term(0, 0, 0, 1)) instanceof Integer ? 3 : 2;
         b.append("\nideals ").append(s.ideals()).append(' ').append(s.checksum());
@@ -92,12 +92,13 @@ public final class RefusedTest {
                 b.append(' ').append(s.standardAt(zero, index, 0));
             }
         }
+        Calls.due("another object was made", s.renewals(), 0);
         return b.toString();
     }
 
-    private static void refused(String name, Supplier<Syzygium> maker, Function<Syzygium, Object> call, String due) {
+    private static void refused(String name, Supplier<Renewed> maker, Function<Renewed, Object> call, String due) {
         Calls.test(name, () -> {
-            Syzygium s = maker.get();
+            Renewed s = maker.get();
             Calls.due("answer", Calls.of(() -> call.apply(s)), due);
             Calls.due("answer once more", Calls.of(() -> call.apply(s)), due);
             Calls.due("nothing is changed", told(s, PRIME), told(maker.get(), PRIME));
@@ -105,7 +106,7 @@ public final class RefusedTest {
     }
 
     private static void rings(int letters) {
-        Supplier<Syzygium> maker = () -> state(letters, false);
+        Supplier<Renewed> maker = () -> state(letters, false);
         int other = 5 - letters;
         refused("2: no such prime", maker, s -> s.begin(4, other, 'g'), Calls.ARGUMENT);
         refused("2: letters out of range", maker, s -> s.begin(5, 4, 'g'), Calls.ARGUMENT);
@@ -124,18 +125,18 @@ public final class RefusedTest {
     }
 
     private static void lists(int letters) {
-        Supplier<Syzygium> none = () -> {
-            Syzygium s = state(letters, false);
+        Supplier<Renewed> none = () -> {
+            Renewed s = state(letters, false);
             s.wipe();
             return s;
         };
-        Supplier<Syzygium> four = () -> {
-            Syzygium s = none.get();
+        Supplier<Renewed> four = () -> {
+            Renewed s = none.get();
             Calls.list(s, "1 400; 1 000");
             return s;
         };
-        Supplier<Syzygium> more = () -> {
-            Syzygium s = four.get();
+        Supplier<Renewed> more = () -> {
+            Renewed s = four.get();
             Calls.poly(s, "2 110, 1 000");
             return s;
         };
@@ -143,8 +144,8 @@ public final class RefusedTest {
         refused("5: it is 0, and the list has 4", four, s -> s.push(), Calls.REFUSED);
         refused("5: the list has 4", more, s -> s.push(), Calls.STATE);
         for (boolean isFull : new boolean[] {false, true}) {
-            Supplier<Syzygium> large = () -> {
-                Syzygium s = state(letters, isFull);
+            Supplier<Renewed> large = () -> {
+                Renewed s = state(letters, isFull);
                 s.wipe();
                 s.dropList();
                 Calls.list(s, "1 400; 1 310, 1 040");
@@ -155,7 +156,7 @@ public final class RefusedTest {
         }
         refused("7: there are 12", () -> state(letters, true), s -> s.ideal(), Calls.STATE);
         refused("7: there are 12, and the list is empty", () -> {
-            Syzygium s = state(letters, true);
+            Renewed s = state(letters, true);
             s.dropList();
             return s;
         }, s -> s.ideal(), Calls.STATE);
@@ -167,8 +168,8 @@ public final class RefusedTest {
             "series", "polynomial", "dimension", "multiplicity", "roots", "table", "length", "regularity", "depth",
             "isOfWords", "components", "componentAt", "primes", "primeAt"};
         for (boolean isFull : new boolean[] {false, true}) {
-            Calls.test("a look changes nothing", () -> {
-                Syzygium s = state(letters, isFull);
+            Calls.test("a look at one ideal changes nothing", () -> {
+                Renewed s = state(letters, isFull);
                 for (String name : names) {
                     for (int ideal = 0; ideal < 5; ideal++) {
                         int i = ideal;
@@ -176,6 +177,10 @@ public final class RefusedTest {
                         Calls.due(name, Calls.of(() -> Calls.called(s, name, i, 0)), first);
                     }
                 }
+                Calls.due("nothing is changed", told(s, PRIME), told(state(letters, isFull), PRIME));
+            });
+            Calls.test("another look changes nothing", () -> {
+                Renewed s = state(letters, isFull);
                 for (int ideal = 0; ideal < 25; ideal++) {
                     Calls.due("same", s.isSame(ideal / 5, ideal % 5), ideal / 5 == ideal % 5);
                     Calls.due("within", s.isWithin(ideal / 5, ideal % 5), ideal / 5 == ideal % 5 || ideal / 5 == ZERO
@@ -192,7 +197,7 @@ public final class RefusedTest {
     }
 
     private static void missing(int letters, boolean isFull) {
-        Supplier<Syzygium> maker = () -> state(letters, isFull);
+        Supplier<Renewed> maker = () -> state(letters, isFull);
         String[] names = {"9 size", "10 lead", "11 words", "12 numberOf", "13 has", "14 rest", "15 inRadical",
             "19 without", "20 isGraded", "21 standard", "22 standardAt", "23 series", "24 polynomial", "25 dimension",
             "26 multiplicity", "27 roots", "28 table", "29 length", "30 regularity", "31 depth", "32 isOfWords",
@@ -218,7 +223,7 @@ public final class RefusedTest {
     }
 
     private static void bases(int letters, boolean isFull) {
-        Supplier<Syzygium> maker = () -> state(letters, isFull);
+        Supplier<Renewed> maker = () -> state(letters, isFull);
         for (int letter : new int[] {-1, letters, Calls.LEAST, Calls.MOST}) {
             refused("10: no such letter " + letter, maker, s -> s.lead(WORDS, 0, letter), Calls.ARGUMENT);
             refused("10: no such place, nor letter " + letter, maker, s -> s.lead(WORDS, 2, letter), Calls.INDEX);
@@ -237,7 +242,7 @@ public final class RefusedTest {
 
     /** For each kind of all that can be wrong at once: no kind, no ideal, refused, and that there are 12. */
     private static void joins(int letters, boolean isFull) {
-        Supplier<Syzygium> maker = () -> state(letters, isFull);
+        Supplier<Renewed> maker = () -> state(letters, isFull);
         for (char kind : new char[] {0, '-', 'x', 65535}) {
             refused("18: no such kind", maker, s -> s.join(kind, WORDS, GRADED), Calls.ARGUMENT);
             refused("18: no such kind, nor ideals", maker, s -> s.join(kind, -1, 12), Calls.ARGUMENT);
@@ -264,7 +269,7 @@ public final class RefusedTest {
     }
 
     private static void freed(int letters, boolean isFull) {
-        Supplier<Syzygium> maker = () -> state(letters, isFull);
+        Supplier<Renewed> maker = () -> state(letters, isFull);
         for (int letter : new int[] {-1, letters, Calls.LEAST, Calls.MOST}) {
             refused("19: no such letter " + letter, maker, s -> s.without(WORDS, letter), Calls.ARGUMENT);
             refused("19: no such letter, of what would be refused", maker, s -> s.without(ODD, letter), Calls.ARGUMENT);
@@ -282,7 +287,7 @@ public final class RefusedTest {
     }
 
     private static void counted(int letters, boolean isFull) {
-        Supplier<Syzygium> maker = () -> state(letters, isFull);
+        Supplier<Renewed> maker = () -> state(letters, isFull);
         for (int ideal = 0; ideal < 5; ideal++) {
             int i = ideal;
             refused("21: degree -1", maker, s -> s.standard(i, -1), Calls.ARGUMENT);
@@ -312,7 +317,7 @@ public final class RefusedTest {
     }
 
     private static void tables(int letters, boolean isFull) {
-        Supplier<Syzygium> maker = () -> state(letters, isFull);
+        Supplier<Renewed> maker = () -> state(letters, isFull);
         for (int i : new int[] {-1, letters + 1, Calls.LEAST, Calls.MOST}) {
             refused("28: i " + i, maker, s -> s.table(GRADED, i, 0), Calls.ARGUMENT);
             refused("28: i " + i + ", and not graded", maker, s -> s.table(ODD, i, 0), Calls.ARGUMENT);
@@ -331,7 +336,7 @@ public final class RefusedTest {
     }
 
     private static void ofWords(int letters, boolean isFull) {
-        Supplier<Syzygium> maker = () -> state(letters, isFull);
+        Supplier<Renewed> maker = () -> state(letters, isFull);
         for (int ideal : new int[] {ODD, GRADED}) {
             refused("33: not one of words", maker, s -> s.components(ideal), Calls.REFUSED);
             refused("34: not one of words", maker, s -> s.componentAt(ideal, 0, 0), Calls.REFUSED);
@@ -365,19 +370,19 @@ public final class RefusedTest {
     }
 
     private static void faces() {
-        Supplier<Syzygium> none = () -> {
-            Syzygium s = state(2, false);
+        Supplier<Renewed> none = () -> {
+            Renewed s = state(2, false);
             s.clear();
             return s;
         };
-        Supplier<Syzygium> nine = () -> {
-            Syzygium s = none.get();
+        Supplier<Renewed> nine = () -> {
+            Renewed s = none.get();
             for (int set : new int[] {7, 11, 13, 14, 19, 21, 22, 35, 37}) {
                 s.put(set);
             }
             return s;
         };
-        for (Supplier<Syzygium> maker : List.of(none, nine)) {
+        for (Supplier<Renewed> maker : List.of(none, nine)) {
             for (int no : new int[] {0, -1, 64, Calls.LEAST, Calls.MOST}) {
                 refused("38: " + no, maker, s -> s.put(no), Calls.ARGUMENT);
             }
@@ -393,7 +398,7 @@ public final class RefusedTest {
         refused("44: no face", none, s -> s.canBeShelled(), Calls.REFUSED);
         refused("44: more than 8 facets", nine, s -> s.canBeShelled(), Calls.REFUSED);
         refused("44: more than 8, of unlike dimensions", () -> {
-            Syzygium s = nine.get();
+            Renewed s = nine.get();
             s.put(56);
             s.put(48);
             s.put(15);
@@ -405,15 +410,15 @@ public final class RefusedTest {
     }
 
     private static void numbers() {
-        Supplier<Syzygium> maker = () -> state(3, false);
+        Supplier<Renewed> maker = () -> state(3, false);
         refused("45: one 0", maker, s -> s.ways(0, 1, 1, 1), Calls.ARGUMENT);
         refused("45: two 1001", maker, s -> s.ways(1, 1001, 1, 1), Calls.ARGUMENT);
         refused("45: three -1", maker, s -> s.ways(1, 1, -1, 1), Calls.ARGUMENT);
         refused("45: sum -1", maker, s -> s.ways(1, 1, 1, -1), Calls.ARGUMENT);
         refused("45: sum 1000001", maker, s -> s.ways(1, 1, 1, 1000001), Calls.ARGUMENT);
         refused("45: all of them", maker, s -> s.ways(0, 0, 1001, -1), Calls.ARGUMENT);
-        Supplier<Syzygium> begun = () -> {
-            Syzygium s = Calls.ring(PRIME, 3, 'd');
+        Supplier<Renewed> begun = () -> {
+            Renewed s = Calls.ring(PRIME, 3, 'd');
             Calls.list(s, "1 100, 1 010; 1 110");
             Calls.poly(s, "2 110, 1 000");
             s.put(7);
@@ -433,8 +438,8 @@ public final class RefusedTest {
         int prime = Integer.parseInt(head[0]);
         boolean isRefused = p[5].trim().equals("refused");
         for (boolean isFull : isRefused ? new boolean[] {false, true} : new boolean[] {true}) {
-            Supplier<Syzygium> maker = () -> {
-                Syzygium s = Calls.ring(prime, Integer.parseInt(head[1]), head[2].charAt(0));
+            Supplier<Renewed> maker = () -> {
+                Renewed s = Calls.ring(prime, Integer.parseInt(head[1]), head[2].charAt(0));
                 String kind = p[1].trim();
                 if (!kind.equals("ideal")) {
                     Calls.ideal(s, p[2]);
@@ -448,7 +453,7 @@ public final class RefusedTest {
                 return s;
             };
             Calls.test("ideals: " + (isFull ? "12, " : "") + line, () -> {
-                Syzygium s = maker.get();
+                Renewed s = maker.get();
                 String due = isRefused ? Calls.REFUSED : Calls.STATE;
                 Calls.due("answer", Calls.of(() -> made(s, p[1].trim())), due);
                 Calls.due("answer once more", Calls.of(() -> made(s, p[1].trim())), due);
@@ -457,7 +462,7 @@ public final class RefusedTest {
         }
     }
 
-    private static int made(Syzygium s, String kind) {
+    private static int made(Renewed s, String kind) {
         if (kind.equals("ideal")) {
             return s.ideal();
         }

@@ -38,32 +38,28 @@ public final class RoomTest {
             .getThreadAllocatedBytes(Thread.currentThread().getId());
     }
 
-    /** Makes ideals of dense polynomials and joins them, in a new ring whenever there are 12. */
+    /** Makes ideals of dense polynomials and joins them, in a new ring whenever there are some. */
     private static long run(int run) {
         Random random = new Random(run);
         long before = bytes();
-        Syzygium s = new Syzygium();
+        Renewed s = new Renewed();
         int prime = PRIMES[run % 4];
-        int calls = 0;
-        int step = 0;
-        while (calls < 505) {
+        int letters = run % 3 == 0 ? 2 : 3;
+        for (int step = 0; s.left() > 30; step++) {
             if (step % 9 == 0) {
-                s.begin(prime, run % 3 == 0 ? 2 : 3, run % 2 == 0 ? 'g' : 'd');
-                calls++;
+                s.begin(prime, letters, run % 2 == 0 ? 'g' : 'd');
             }
             if (step % 9 < 3 || s.ideals() == 0) {
-                calls += dense(s, random, prime, run % 3 == 0 ? 2 : 3);
+                dense(s, random, prime, letters);
             } else {
-                calls += made(s, random, run % 3 == 0 ? 2 : 3);
+                made(s, random, letters);
             }
-            step++;
         }
         s.isSound();
         return bytes() - before;
     }
 
-    private static int dense(Syzygium s, Random random, int prime, int letters) {
-        int calls = 1;
+    private static void dense(Renewed s, Random random, int prime, int letters) {
         s.dropList();
         int polynomials = 1 + random.nextInt(3);
         for (int i = 0; i < polynomials; i++) {
@@ -72,16 +68,13 @@ public final class RoomTest {
                 int x = random.nextInt(5);
                 int y = random.nextInt(5 - x);
                 s.term(1 + random.nextInt(prime - 1), x, y, letters == 2 ? 0 : random.nextInt(5 - x - y));
-                calls++;
             }
             Calls.of(s::push);
-            calls++;
         }
         Calls.of(s::ideal);
-        return calls + 1;
     }
 
-    private static int made(Syzygium s, Random random, int letters) {
+    private static void made(Renewed s, Random random, int letters) {
         int one = random.nextInt(s.ideals());
         int other = random.nextInt(s.ideals());
         if (random.nextInt(4) == 0) {
@@ -90,11 +83,10 @@ public final class RoomTest {
             Calls.of(() -> s.join(KINDS[random.nextInt(KINDS.length)], one, other));
         }
         Calls.of(() -> s.regularity(one));
-        return 2;
     }
 
     private static long again(String name) {
-        Syzygium s = Calls.ring(7, 3, 'g');
+        Renewed s = Calls.ring(7, 3, 'g');
         int twelve = Calls.twelveWords(s);
         Calls.ideal(s, "1 400, 1 130, 3 011, 2 000; 1 040, 3 103, 5 100, 1 000; 1 004, 2 111, 6 010");
         Calls.ideal(s, "1 200, -1 011; 1 110, -1 002");
@@ -103,7 +95,7 @@ public final class RoomTest {
             s.put(7 << i % 4 | 1 << i % 6);
         }
         long before = bytes();
-        for (int i = 0; i < 490; i++) {
+        for (int i = 0; s.left() > 3; i++) {
             int ideal = i % s.ideals();
             switch (name) {
                 case "isSound": s.isSound(); break;

@@ -11,7 +11,7 @@ import java.util.TreeSet;
  * modulo how many there are.
  */
 public final class RunsTest {
-    private static Syzygium s = new Syzygium();
+    private static Renewed s = new Renewed();
 
     public static void main(String[] arguments) throws IOException {
         List<String> lines = Files.readAllLines(Path.of("src/test/data/runs.txt"));
@@ -47,7 +47,7 @@ public final class RunsTest {
     private static String of(String[] call) {
         switch (call[0]) {
             case "begin":
-                s = new Syzygium();
+                s = new Renewed();
                 return "" + s.begin(number(call[1]), number(call[2]), call[3].charAt(0));
             case "term":
                 return "" + s.term(number(call[1]), number(call[2]), number(call[3]), number(call[4]));

@@ -53,8 +53,8 @@ public final class StaysTest {
         Calls.end();
     }
 
-    private Syzygium state() {
-        Syzygium s = Calls.ring(PRIME, letters, 'd');
+    private Renewed state() {
+        Renewed s = Calls.ring(PRIME, letters, 'd');
         Calls.ideal(s, "1 400, 1 010; 1 040, 1 100, 1 000");
         Calls.ideal(s, "1 220; 1 130");
         Calls.ideal(s, "");
@@ -70,7 +70,7 @@ public final class StaysTest {
         return s;
     }
 
-    private static String part(Syzygium s, String part) {
+    private static String part(Renewed s, String part) {
         switch (part) {
             case "polynomial": return Calls.polynomial(s, PRIME);
             case "numbers": return numbers(s);
@@ -83,7 +83,7 @@ public final class StaysTest {
     }
 
     /** The prime, by how often a word comes before it goes; the number of letters, by what is refused. */
-    private static String numbers(Syzygium s) {
+    private static String numbers(Renewed s) {
         s.wipe();
         int times = 1;
         while (times < 9 && s.term(1, 0, 3, 0) > 0) {
@@ -92,7 +92,7 @@ public final class StaysTest {
         return times + (Calls.of(() -> s.term(1, 0, 0, 1)) instanceof Integer ? " xyz" : " xy");
     }
 
-    private static String listed(Syzygium s) {
+    private static String listed(Renewed s) {
         int number = s.ideals();
         if (number >= 12) {
             return "" + s.dropList();
@@ -102,7 +102,7 @@ public final class StaysTest {
     }
 
     /** The order, by the leading word of xz + y^2; with two letters there is but one. */
-    private static String order(Syzygium s) {
+    private static String order(Renewed s) {
         if (s.ideals() >= 12) {
             return "?";
         }
@@ -115,7 +115,7 @@ public final class StaysTest {
         return hasZ ? Calls.leads(s, made, 3) : Calls.leads(s, made, 2);
     }
 
-    private static String ideals(Syzygium s) {
+    private static String ideals(Renewed s) {
         StringBuilder b = new StringBuilder();
         for (int i = 0; i < s.ideals(); i++) {
             b.append(i == 0 ? "" : " | ").append(Calls.basis(s, i, 3, 'd'));
@@ -123,7 +123,7 @@ public final class StaysTest {
         return b.toString();
     }
 
-    private static String facesTold(Syzygium s) {
+    private static String facesTold(Renewed s) {
         StringBuilder b = new StringBuilder();
         int facets = 0;
         for (int i = 0; i < 21; i++) {
@@ -154,19 +154,20 @@ public final class StaysTest {
     }
 
     /** One call, and what it changes: names of parts, each followed by what is due of it then. */
-    private void changes(String name, Function<Syzygium, Object> call, String... changed) {
+    private void changes(String name, Function<Renewed, Object> call, String... changed) {
         Calls.test(name + (isFull ? ", with 12 ideals, " : ", ") + letters + " letters", () -> {
             asBefore();
             for (int i = 0; i + 1 < changed.length; i += 2) {
                 due.put(changed[i], changed[i + 1]);
             }
             for (Map.Entry<String, String> part : due.entrySet()) {
-                Syzygium s = state();
+                Renewed s = state();
                 call.apply(s);
                 Calls.due(part.getKey(), part(s, part.getKey()), part.getValue());
+                Calls.due("another object was made", s.renewals(), 0);
             }
             if (!Arrays.asList(changed).contains("faces")) {
-                Syzygium s = state();
+                Renewed s = state();
                 s.clear();
                 Calls.of(() -> call.apply(s));
                 Calls.due("no faces, not the empty one either", part(s, "faces"), NO_FACES);
@@ -248,7 +249,7 @@ public final class StaysTest {
     }
 
     /** A call that throws, after what makes it so, and what that has changed already. */
-    private void refused(String name, Consumer<Syzygium> before, Function<Syzygium, Object> call, String exception,
+    private void refused(String name, Consumer<Renewed> before, Function<Renewed, Object> call, String exception,
             String... changed) {
         changes(name + " throws", s -> {
             before.accept(s);
@@ -258,7 +259,7 @@ public final class StaysTest {
         }, changed);
     }
 
-    private void refused(String name, Function<Syzygium, Object> call, String exception) {
+    private void refused(String name, Function<Renewed, Object> call, String exception) {
         refused(name, s -> { }, call, exception);
     }
 
@@ -360,7 +361,7 @@ public final class StaysTest {
 
     /** Without ideals, as none go but with all that the ring has; the list and the polynomial are made again. */
     private void meansRefused() {
-        Consumer<Syzygium> none = s -> {
+        Consumer<Renewed> none = s -> {
             s.begin(PRIME, letters, 'd');
             Calls.list(s, "1 020, 2 100, 1 000; 1 110, 4 000");
             Calls.poly(s, "2 110, 1 010, 4 000");
