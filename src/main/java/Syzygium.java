@@ -2438,7 +2438,8 @@ public final class Syzygium {
                     }
                 }
             }
-            return canStand[(1 << number) - 1];
+            int all = (1 << number) - 1;
+            return all < canStand.length && canStand[all];
         }
 
         /** Whether each face that a facet shares with those ahead is within a shared one of one dimension less. */

@@ -21,6 +21,7 @@ public final class EdgesTest {
         lists();
         generated();
         sizes(Files.readAllLines(Path.of("src/test/data/edges.txt")));
+        onTheWay();
         basesLookedAt();
         numbersOf();
         belonging();
@@ -491,6 +492,40 @@ public final class EdgesTest {
                 Renewed s = Calls.ring(Integer.parseInt(head[0]), letters, order);
                 Calls.due(made(s, p[1].trim(), p[2], p[3], letters, order), p[5].trim());
                 Calls.due("list", s.dropList(), 0);
+            });
+        }
+    }
+
+    /** Ideals that are kept, though there is more, or of higher degrees, while they are made; told by Singular. */
+    private static void onTheWay() {
+        String[][] due = {
+            {"5 2 g", "ideal", "1 400; 1 310, 1 040; 1 100, 1 010, 1 000", "", "1.000"},
+            {"5 3 d", "+", "2 103, 4 000, 2 310, 4 300", "1 400", "1.000"},
+            {"2 3 d", "+", "1 021, 1 100, 1 200, 1 300", "1 220; 1 004, 1 400", "1.300 1.021 1.200 1.100; "
+                + "1.121 1.004 1.021 1.100; 1.220; 1.041 1.120; 1.104 1.004 1.021 1.200 1.100; 1.006 1.023 1.102; 1.024"},
+            {"5 2 g", "*", "2 220, 4 200; 4 310", "3 400; 2 010", "1.310; 1.230 2.210; 1.600"},
+            {"2 2 g", "*", "1 030; 1 300, 1 020; 1 120", "1 100; 1 040", "1.130; 1.220; 1.400 1.120; 1.060"},
+            {"7 3 g", "*", "2 100, 2 000; 4 130", "3 200; 2 013; 2 210", "1.300 1.200; 1.113 1.013; 1.230; 1.033"},
+            {"2 3 g", ":", "1 400; 1 030", "1 012, 1 010, 1 102, 1 210; 1 202, 1 200, 1 100; 1 400, 1 300, 1 100",
+                "1.030; 1.400; 1.320"},
+            {"7 3 g", ":", "3 040, 6 400, 6 010; 1 202, 3 201; 3 310, 2 000",
+                "1 101; 1 112, 6 400, 6 211; 6 010, 2 100, 5 001", "1.002 3.001; 1.310 3.000; 1.400 4.040 1.010; "
+                + "1.050 2.020 1.100"},
+            {"5 3 g", "~", "3 030, 4 210; 2 300", "2 202; 1 103, 3 010", "1.000"},
+            {"2 3 d", "~", "1 201; 1 022, 1 040", "1 211; 1 013, 1 100, 1 020", "1.021 1.003; 1.201; 1.040 1.004"},
+            {"7 3 g", "~", "4 301; 6 040; 4 201", "6 013, 3 211, 3 100", "1.001; 1.040"},
+            {"7 3 d", "~", "2 400, 6 301; 3 400, 1 100, 6 021", "5 013", "1.100 3.001; 1.003 4.020 5.000"}};
+        for (String[] d : due) {
+            Calls.test("ideals: what comes on the way is not refused: " + String.join(" | ", d), () -> {
+                String[] ring = d[0].split(" ");
+                int letters = Integer.parseInt(ring[1]);
+                char order = ring[2].charAt(0);
+                Renewed s = Calls.ring(Integer.parseInt(ring[0]), letters, order);
+                Calls.due(made(s, d[1], d[2], d[3], letters, order), d[4]);
+                if (d[1].equals("+") || d[1].equals("*")) {
+                    Renewed t = Calls.ring(Integer.parseInt(ring[0]), letters, order);
+                    Calls.due("the other way", made(t, d[1], d[3], d[2], letters, order), d[4]);
+                }
             });
         }
     }
