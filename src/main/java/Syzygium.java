@@ -1615,13 +1615,24 @@ public final class Syzygium {
         /** Makes ready what an ideal has without a letter. */
         boolean freed(Basis basis, int letter) {
             find(basis, none, letter);
-            if (!isFoundSmall()) {
+            if (!isFoundSmall() || leavesMore(basis)) {
                 return false;
             }
             engine.ring.gone = letter;
             boolean isWhole = hasNoMore(basis, letter);
             engine.ring.gone = -1;
             return isWhole && isReady(found);
+        }
+
+        /**
+         * Whether what has been found leaves more words without the letter than the ideal leaves words at all: some
+         * sum of them is in the ideal then, so that there is more to be found, in higher degrees.
+         */
+        private boolean leavesMore(Basis basis) {
+            Ring ring = engine.ring;
+            int left = Words.freedom(ring, found) - 1;
+            int whole = Words.freedom(ring, basis);
+            return left > whole || left == whole && Words.weight(ring, found) > Words.weight(ring, basis);
         }
 
         /**

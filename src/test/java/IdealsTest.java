@@ -122,8 +122,8 @@ public final class IdealsTest {
         }
         boolean isTold = same > 0;
         if (!isTold) {
-            boolean mayBeMore = got.equals("refused") || space == null
-                || space.isInside(plain(MOST).generated(plain(MOST).rows(listed(got))));
+            boolean mayBeMore = space == null || (got.equals("refused") ? space.basis().isEmpty()
+                : space.isInside(plain(MOST).generated(plain(MOST).rows(listed(got)))));
             Calls.due(what, mayBeMore ? "beyond" : got, mayBeMore ? "beyond" : space.basis());
             untold++;
         }
